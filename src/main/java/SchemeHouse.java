@@ -213,10 +213,10 @@ public final class SchemeHouse {
         BYTES_COPY_TO("bytevector-copy!", "bkb[kk", 10), BYTES_APPEND("bytevector-append", "b*", 10),
         BYTES_STRING("utf8->string", "b[kk", 10),
 
-        DISPLAY("display", "x", 11), WRITE("write", "x", 11), NEWLINE("newline", "", 11),
+        DISPLAY("display", "x", 13), WRITE("write", "x", 13), NEWLINE("newline", "", 11),
         WRITE_CHAR("write-char", "c", 11), WRITE_STRING("write-string", "s[kk", 11), READ_CHAR("read-char", "", 11),
         PEEK_CHAR("peek-char", "", 11), READ_LINE("read-line", "", 11), READ_STRING("read-string", "k", 11),
-        READ("read", "", 11),
+        READ("read", "", 13),
 
         CASE_LAMBDA("%case-lambda", "f*", 12), MAKE_ERROR("%make-error", "xl", 12),
         MAKE_PARAMETER("%make-parameter", "xf", 12), CONVERTER("%converter", "m", 12), TYPE("%type", "yl", 12),
