@@ -29,7 +29,7 @@ public final class SchemeHouse {
         scribe = new Scribe(room, numerals);
         tables = new Tables(room);
         Expander expander = new Expander(room, tables, new Rules(room, tables));
-        machine = new Machine(expander, numbers, new Procedures(room, numbers, numerals, scribe, reader));
+        machine = new Machine(expander, new Procedures(room, numbers, numerals, scribe, reader));
         machine.found();
         byte[] text = new byte[PRELUDE.length()];
         for (int i = 0; i < text.length; i++) text[i] = (byte) PRELUDE.charAt(i);
@@ -66,7 +66,7 @@ public final class SchemeHouse {
 
     public int input() {
         int size = taped;
-        reader.input(tape, size);
+        reader.takeInput(tape, size);
         taped = 0;
         return size;
     }
@@ -162,7 +162,8 @@ public final class SchemeHouse {
 
         NUMERATOR("numerator", "n", 3), DENOMINATOR("denominator", "n", 3), FLOOR("floor", "n", 3),
         CEILING("ceiling", "n", 3), TRUNCATE("truncate", "n", 3), ROUND("round", "n", 3), EXACT("exact", "n", 3),
-        INEXACT("inexact", "n", 3), NUMBER_STRING("number->string", "n[k", 4), STRING_NUMBER("string->number", "s[k", 4),
+        INEXACT("inexact", "n", 3), NUMBER_STRING("number->string", "n[k", 4),
+        STRING_NUMBER("string->number", "s[k", 4),
 
         CAR("car", "p", 5), CDR("cdr", "p", 5), CAAR("caar", "p", 5), CADR("cadr", "p", 5), CDAR("cdar", "p", 5),
         CDDR("cddr", "p", 5), CAAAR("caaar", "p", 5), CAADR("caadr", "p", 5), CADAR("cadar", "p", 5),
@@ -280,6 +281,7 @@ public final class SchemeHouse {
         int work;
         int most = SIZE;
         int fresh;
+        int called;
         int fault;
         int irritants;
         int culprit;
@@ -305,6 +307,10 @@ public final class SchemeHouse {
 
         static int kind(int v) {
             return (v & 1) != 0 ? FIX : (v >> 1) & 31;
+        }
+
+        static boolean isPair(int v) {
+            return (v & 63) == PAIR << 1;
         }
 
         static int value(int kind, int index) {
@@ -368,6 +374,30 @@ public final class SchemeHouse {
         void wrong(int form) {
             culprit = form;
             throw new IllegalArgumentException();
+        }
+
+        /** A condition with the name of the procedure at work. */
+        int failNamed(int condition) {
+            spend(1);
+            int i = make(2);
+            put(i, names[called & 511]);
+            put(i + 1, NIL);
+            fault = condition;
+            irritants = value(PAIR, i);
+            return NOTHING;
+        }
+
+        /** A condition with the name of the procedure at work, and an operand. */
+        int failWith(int condition, int operand) {
+            spend(2);
+            int i = make(4);
+            put(i, names[called & 511]);
+            put(i + 1, value(PAIR, i + 2));
+            put(i + 2, operand);
+            put(i + 3, NIL);
+            fault = condition;
+            irritants = value(PAIR, i);
+            return NOTHING;
         }
 
         /** A condition takes the place of the answer. */
@@ -492,8 +522,8 @@ public final class SchemeHouse {
             return -1;
         }
 
-        // what is left to do: frames (what to do, the next frame, four words), and values that wait (value, the one before).
-        // Those below frozen belong to a CONTINUATION and stay; what is above the newest that is still in use is free.
+        // what is left to do: frames (what to do, the next frame, four words), and values that wait (value, the one
+        // before). Those below frozen belong to a CONTINUATION and stay; what is above the newest in use is free.
 
         int frameWord(int i) {
             return frames[i & (FRAMES - 1)];
@@ -1128,7 +1158,7 @@ public final class SchemeHouse {
 
         // FLONUMS
 
-        /** The FLONUM nearest to the register times 2 to the power (and something less than the lowest bit, if more). */
+        /** The FLONUM nearest to the register times 2 to the power (and to something less than a bit more, if more). */
         private long round(boolean less, int r, int power, boolean more) {
             long sign = less ? TURN : 0;
             int n = bigs.bits(r);
@@ -1249,16 +1279,16 @@ public final class SchemeHouse {
             minus[to & 15] = less && !bigs.isZero(to);
         }
 
-        private int limit(Proc p) {
-            return room.fail(Room.IS_LIMIT, room.pair(room.names[p.ordinal() & 511], Room.NIL));
+        private int limit() {
+            return room.failNamed(Room.IS_LIMIT);
         }
 
-        private int zero(Proc p) {
-            return room.fail(Room.IS_ZERO, room.pair(room.names[p.ordinal() & 511], Room.NIL));
+        private int zero() {
+            return room.failNamed(Room.IS_ZERO);
         }
 
-        private int range(Proc p, int operand) {
-            return room.fail(Room.IS_RANGE, room.pair(room.names[p.ordinal() & 511], room.pair(operand, Room.NIL)));
+        private int range(int operand) {
+            return room.failWith(Room.IS_RANGE, operand);
         }
 
         private boolean hasFlo(int n) {
@@ -1282,17 +1312,17 @@ public final class SchemeHouse {
             load(room.arg(1), 0);
             for (int i = 2; i <= n; i++) {
                 load(room.arg(i), 2);
-                if (p == Proc.DIVIDE && bigs.isZero(2)) return zero(p);
-                if (p == Proc.PLUS || p == Proc.MINUS) sum(p == Proc.MINUS);
+                if (p == Proc.DIVIDE && bigs.isZero(2)) return zero();
+                if (p == Proc.PLUS || p == Proc.MINUS) add(p == Proc.MINUS);
                 else product(p == Proc.DIVIDE);
                 reduce(0);
-                if (isOver(0)) return limit(p);
+                if (isOver(0)) return limit();
             }
             return made(store(0));
         }
 
         /** Registers 0 and 1 get the sum of what is there and what is in 2 and 3 (or the difference). */
-        private void sum(boolean difference) {
+        private void add(boolean difference) {
             if (difference) minus[2] = !minus[2];
             if (bigs.isOne(1) && bigs.isOne(3)) {
                 plus(0, 0, 2);
@@ -1322,7 +1352,7 @@ public final class SchemeHouse {
                 case TIMES:
                     if (n == 0) return Room.fix(p == Proc.PLUS ? 0 : 1);
                     return n == 1 ? a : chain(p, n);
-                case MINUS: return n == 1 ? opposite(p, a) : chain(p, n);
+                case MINUS: return n == 1 ? opposite(a) : chain(p, n);
                 case DIVIDE:
                     if (n > 1) return chain(p, n);
                     room.setArg(1, Room.fix(1));
@@ -1333,7 +1363,7 @@ public final class SchemeHouse {
                     return chain(p, 2);
                 case MAX: return best(n, 1);
                 case MIN: return best(n, -1);
-                case ABS: return signOf(a) < 0 ? opposite(p, a) : a;
+                case ABS: return signOf(a) < 0 ? opposite(a) : a;
                 case GCD:
                 case LCM: return common(p, n);
                 case EXPT: return expt(a, room.arg(2));
@@ -1343,7 +1373,7 @@ public final class SchemeHouse {
             }
         }
 
-        private int opposite(Proc p, int a) {
+        private int opposite(int a) {
             if (Room.kind(a) == Room.FLO) return madeFlo(isNan(flo(a)) ? NAN : flo(a) ^ TURN);
             load(a, 0);
             minus[0] = !minus[0] && !bigs.isZero(0);
@@ -1369,7 +1399,7 @@ public final class SchemeHouse {
                     bigs.multiply(4, 0, 5);
                 }
                 bigs.copy(0, 4);
-                if (isOver(0)) return limit(p);
+                if (isOver(0)) return limit();
             }
             minus[0] = false;
             return whole(0, flo);
@@ -1389,12 +1419,12 @@ public final class SchemeHouse {
             if (Room.kind(base) == Room.FLO) return madeFlo(floPower(flo(base)));
             load(base, 0);
             boolean below = minus[2];
-            if (bigs.isZero(0) && below) return zero(Proc.EXPT);
+            if (bigs.isZero(0) && below) return zero();
             boolean less = minus[0] && bigs.isOdd(2);
             if (bigs.isZero(0) || bigs.isOne(0) && bigs.isOne(1)) {
                 if (bigs.isZero(2)) bigs.set(0, 1);
             } else if (bigs.bits(2) > 13 || !exactPower(0) || !exactPower(1)) {
-                return limit(Proc.EXPT);
+                return limit();
             }
             if (below) {
                 bigs.copy(4, 0);
@@ -1433,7 +1463,7 @@ public final class SchemeHouse {
         }
 
         private int sqrt(int a) {
-            if (signOf(a) < 0) return range(Proc.SQRT, a);
+            if (signOf(a) < 0) return range(a);
             if (Room.kind(a) == Room.FLO) return madeFlo(floRoot(flo(a)));
             load(a, 0);
             if (!isSquare(0) || !isSquare(1)) return madeFlo(floRoot(toFlo(a)));
@@ -1468,7 +1498,7 @@ public final class SchemeHouse {
         }
 
         private int division(Proc p, int a, int b) {
-            if (signOf(b) == 0) return zero(p);
+            if (signOf(b) == 0) return zero();
             boolean flo = Room.kind(a) == Room.FLO || Room.kind(b) == Room.FLO;
             load(a, 2);
             load(b, 4);
@@ -1502,7 +1532,7 @@ public final class SchemeHouse {
             if (p == Proc.INEXACT) return flo ? a : madeFlo(toFlo(a));
             if (p == Proc.EXACT) {
                 if (!flo) return a;
-                if (!isFinite(flo(a))) return range(p, a);
+                if (!isFinite(flo(a))) return range(a);
                 load(a, 0);
                 return made(store(0));
             }
@@ -1519,7 +1549,7 @@ public final class SchemeHouse {
         private int fractionPart(Proc p, int a, boolean flo) {
             boolean upper = p == Proc.NUMERATOR;
             if (flo) {
-                if (!isFinite(flo(a))) return range(p, a);
+                if (!isFinite(flo(a))) return range(a);
                 load(a, 0);
                 return madeFlo(upper ? round(minus[0], 0, 0, false) : round(false, 1, 0, false));
             }
@@ -1915,7 +1945,7 @@ public final class SchemeHouse {
 
         // the INPUT
 
-        void input(byte[] from, int n) {
+        void takeInput(byte[] from, int n) {
             inputSize = Math.min(n, TAPE);
             inputAt = 0;
             System.arraycopy(from, 0, input, 0, inputSize);
@@ -2593,14 +2623,14 @@ public final class SchemeHouse {
             highest = 0;
         }
 
-        /** Each object is gone into once. A pair waits as one word, with how far it is; a vector has its index below. */
+        /** Each object is gone into once. A pair waits as one word, with how far it is; a vector's index is below. */
         private void findLoops(int v) {
             top = 0;
             visit(v);
             for (int turn = 0; turn < Room.SIZE * 4 && top > 0; turn++) {
                 int word = room.scratch[(top - 1) & STACK];
                 int at = word >> 2;
-                if (Room.kind(at) == Room.PAIR) {
+                if (Room.isPair(at)) {
                     if ((word & 3) == 2) {
                         top--;
                         leave(at);
@@ -2676,7 +2706,7 @@ public final class SchemeHouse {
         private void rest(int v) {
             if (v == Room.NIL) {
                 put(')');
-            } else if (Room.kind(v) == Room.PAIR && colour(v) != LOOPED) {
+            } else if (Room.isPair(v) && colour(v) != LOOPED) {
                 put(' ');
                 push(room.cdr(v), REST);
                 push(room.car(v), WHOLE);
@@ -2708,7 +2738,7 @@ public final class SchemeHouse {
                 labelled[labels & LABELS] = v;
                 labels++;
             }
-            if (Room.kind(v) == Room.PAIR) {
+            if (Room.isPair(v)) {
                 put('(');
                 push(room.cdr(v), REST);
                 push(room.car(v), WHOLE);
@@ -2881,8 +2911,8 @@ public final class SchemeHouse {
             int id = identifier;
             int scope = environment;
             for (int hops = 0; hops < Room.SIZE; hops++) {
-                while (room.at(scope) != 0) {
-                    for (int b = room.at(scope + 1); b != 0; b = room.at(b + 2)) {
+                for (int up = 0; up < Room.SIZE && room.at(scope) != 0; up++) {
+                    for (int b = room.at(scope + 1), turn = 0; turn < Room.SIZE && b != 0; b = room.at(b + 2), turn++) {
                         if (room.at(b) == id) {
                             level = room.at(scope + 2);
                             return (room.at(b + 1) & 1) == 1 ? Room.value(Room.SLOT, b) : room.at(b + 1);
@@ -2897,13 +2927,13 @@ public final class SchemeHouse {
             lastTable = scope;
             lastSymbol = id;
             int b = room.at(Room.index(id) + 1);
-            while (b != 0 && room.at(b) != scope) b = room.at(b + 3);
+            for (int turn = 0; turn < Room.SIZE && b != 0 && room.at(b) != scope; turn++) b = room.at(b + 3);
             return b == 0 ? Room.NOTHING : room.at(b + 1);
         }
 
         private int binding(int symbol, int table) {
             int b = room.at(Room.index(symbol) + 1);
-            while (b != 0 && room.at(b) != table) b = room.at(b + 3);
+            for (int turn = 0; turn < Room.SIZE && b != 0 && room.at(b) != table; turn++) b = room.at(b + 3);
             return b;
         }
 
@@ -2923,7 +2953,7 @@ public final class SchemeHouse {
 
         boolean isBoundIn(int scope, int id) {
             int b = scope == 0 ? 0 : room.at(scope + 1);
-            while (b != 0 && room.at(b) != id) b = room.at(b + 2);
+            for (int turn = 0; turn < Room.SIZE && b != 0 && room.at(b) != id; turn++) b = room.at(b + 2);
             return b != 0;
         }
 
@@ -2945,7 +2975,7 @@ public final class SchemeHouse {
         void bind(int symbol, int table, int meaning, boolean imported) {
             int chain = Room.index(symbol) + 1;
             int b = room.at(chain);
-            while (b != 0 && room.at(b) != table) b = room.at(b + 3);
+            for (int turn = 0; turn < Room.SIZE && b != 0 && room.at(b) != table; turn++) b = room.at(b + 3);
             if (b == 0) {
                 b = room.make(4);
                 room.put(b, table);
@@ -2976,7 +3006,7 @@ public final class SchemeHouse {
         void keepBase() {
             bases = 0;
             for (int bucket = 0; bucket < Room.BUCKETS; bucket++) {
-                for (int i = room.at(bucket); i != 0; i = room.at(i)) {
+                for (int i = room.at(bucket), turn = 0; turn < Room.SIZE && i != 0; i = room.at(i), turn++) {
                     int symbol = Room.value(Room.SYMBOL, i);
                     int b = binding(symbol, house);
                     if (b != 0 && room.symbolSign(symbol, 0) != '%') addBase(symbol, room.at(b + 1));
@@ -3030,7 +3060,7 @@ public final class SchemeHouse {
         }
 
         private void addSets(int sets, int whole) {
-            for (int rest = sets; Room.kind(rest) == Room.PAIR; rest = room.cdr(rest)) {
+            for (int rest = sets, turn = 0; turn < Room.SIZE && Room.isPair(rest); rest = room.cdr(rest), turn++) {
                 int modified = innermost(room.car(rest), whole);
                 for (int i = modified - 1; i >= 0; i--) modify(modifiers[i & 127], whole);
                 for (int i = 0; i < names; i++) {
@@ -3045,10 +3075,8 @@ public final class SchemeHouse {
         private int innermost(int set, int whole) {
             int within = 0;
             int at = set;
-            while (isModified(at)) {
-                if (within >= MOST_SETS) room.wrong(whole);
+            for (; within < MOST_SETS && isModified(at); within++) {
                 modifiers[within & 127] = at;
-                within++;
                 at = room.car(room.cdr(at));
             }
             if (!isName(at)) room.wrong(whole);
@@ -3060,7 +3088,9 @@ public final class SchemeHouse {
             int library = find(at);
             if (library == 0) room.wrong(whole);
             int table = room.at(library + 1);
-            for (int e = room.at(library + 2); e != 0; e = room.at(e + 2)) addName(room.at(e), table, room.at(e + 1));
+            for (int e = room.at(library + 2), turn = 0; turn < MOST_EXPORTS && e != 0; e = room.at(e + 2), turn++) {
+                addName(room.at(e), table, room.at(e + 1));
+            }
             return within;
         }
 
@@ -3070,17 +3100,17 @@ public final class SchemeHouse {
         }
 
         private boolean isModified(int set) {
-            if (Room.kind(set) != Room.PAIR || !room.isList(set)) return false;
+            if (!Room.isPair(set) || !room.isList(set)) return false;
             int second = room.cdr(set);
-            if (Room.kind(second) != Room.PAIR || Room.kind(room.car(second)) != Room.PAIR) return false;
+            if (!Room.isPair(second) || !Room.isPair(room.car(second))) return false;
             int head = room.car(set);
             return room.isNamed(head, "only") || room.isNamed(head, "except") || room.isNamed(head, "prefix")
                 || room.isNamed(head, "rename");
         }
 
         boolean isName(int v) {
-            if (Room.kind(v) != Room.PAIR || !room.isList(v)) return false;
-            for (int rest = v; Room.kind(rest) == Room.PAIR; rest = room.cdr(rest)) {
+            if (!Room.isPair(v) || !room.isList(v)) return false;
+            for (int rest = v, turn = 0; turn < Room.SIZE && Room.isPair(rest); rest = room.cdr(rest), turn++) {
                 int part = room.car(rest);
                 boolean number = Room.kind(part) == Room.FIX && part > 0
                     || Room.kind(part) == Room.BIG && room.at(Room.index(part)) > 0;
@@ -3092,7 +3122,7 @@ public final class SchemeHouse {
         private boolean sameName(int a, int b) {
             int x = a;
             int y = b;
-            while (Room.kind(x) == Room.PAIR && Room.kind(y) == Room.PAIR) {
+            for (int n = 0; n < Room.SIZE && Room.isPair(x) && Room.isPair(y); n++) {
                 int p = room.symbolOf(room.car(x));
                 int q = room.symbolOf(room.car(y));
                 boolean bigs = Room.kind(p) == Room.BIG && Room.kind(q) == Room.BIG;
@@ -3105,15 +3135,17 @@ public final class SchemeHouse {
 
         private int find(int name) {
             int library = first;
-            while (library != 0 && !sameName(room.at(library), name)) library = room.at(library + 3);
+            for (int n = 0; n < libraries && library != 0 && !sameName(room.at(library), name); n++) {
+                library = room.at(library + 3);
+            }
             return library;
         }
 
         private void modify(int set, int whole) {
             int head = room.car(set);
             int rest = room.cdr(room.cdr(set));
-            if (room.isNamed(head, "only")) only(rest, whole);
-            else if (room.isNamed(head, "except")) except(rest, whole);
+            if (room.isNamed(head, "only")) keep(rest, true, whole);
+            else if (room.isNamed(head, "except")) keep(rest, false, whole);
             else if (room.isNamed(head, "prefix")) prefix(rest, whole);
             else rename(rest, whole);
         }
@@ -3128,29 +3160,15 @@ public final class SchemeHouse {
             return i;
         }
 
-        private void only(int ids, int whole) {
+        /** Of the names those told are kept, or the others. */
+        private void keep(int ids, boolean told, int whole) {
             int kept = 0;
             for (int i = 0; i < names; i++) setWord(OTHER + i, 0);
-            for (int rest = ids; Room.kind(rest) == Room.PAIR; rest = room.cdr(rest)) {
+            for (int rest = ids, turn = 0; turn < Room.SIZE && Room.isPair(rest); rest = room.cdr(rest), turn++) {
                 setWord(OTHER + position(room.car(rest), whole), 1);
             }
             for (int i = 0; i < names; i++) {
-                if (word(OTHER + i) == 1) {
-                    setName(kept * 3, word(i * 3), word(i * 3 + 1), word(i * 3 + 2));
-                    kept++;
-                }
-            }
-            names = kept;
-        }
-
-        private void except(int ids, int whole) {
-            int kept = 0;
-            for (int i = 0; i < names; i++) setWord(OTHER + i, 1);
-            for (int rest = ids; Room.kind(rest) == Room.PAIR; rest = room.cdr(rest)) {
-                setWord(OTHER + position(room.car(rest), whole), 0);
-            }
-            for (int i = 0; i < names; i++) {
-                if (word(OTHER + i) == 1) {
+                if ((word(OTHER + i) == 1) == told) {
                     setName(kept * 3, word(i * 3), word(i * 3 + 1), word(i * 3 + 2));
                     kept++;
                 }
@@ -3159,7 +3177,7 @@ public final class SchemeHouse {
         }
 
         private void prefix(int rest, int whole) {
-            if (Room.kind(rest) != Room.PAIR || room.cdr(rest) != Room.NIL) room.wrong(whole);
+            if (!Room.isPair(rest) || room.cdr(rest) != Room.NIL) room.wrong(whole);
             if (!Room.isIdentifier(room.car(rest))) room.wrong(whole);
             int prefix = room.symbolOf(room.car(rest));
             int n = room.symbolSize(prefix);
@@ -3176,7 +3194,7 @@ public final class SchemeHouse {
 
         private void rename(int pairs, int whole) {
             for (int i = 0; i < names; i++) setWord(OTHER + i, Room.NOTHING);
-            for (int rest = pairs; Room.kind(rest) == Room.PAIR; rest = room.cdr(rest)) {
+            for (int rest = pairs, turn = 0; turn < Room.SIZE && Room.isPair(rest); rest = room.cdr(rest), turn++) {
                 int pair = room.car(rest);
                 if (!room.isList(pair) || room.pairs(pair) != 2) room.wrong(whole);
                 int i = position(room.car(pair), whole);
@@ -3209,19 +3227,19 @@ public final class SchemeHouse {
         /** A library that isn't among the others before its FORMS are done: its index. */
         int library(int form) {
             int rest = room.cdr(form);
-            if (Room.kind(rest) != Room.PAIR || !isName(room.car(rest))) room.wrong(form);
+            if (!Room.isPair(rest) || !isName(room.car(rest))) room.wrong(form);
             int name = room.car(rest);
             int declarations = room.cdr(rest);
             int exports = 0;
             int last = 0;
             int count = 0;
-            for (int d = declarations; Room.kind(d) == Room.PAIR; d = room.cdr(d)) {
+            for (int d = declarations, turn = 0; turn < Room.SIZE && Room.isPair(d); d = room.cdr(d), turn++) {
                 int part = room.car(d);
-                if (Room.kind(part) != Room.PAIR || !room.isList(part)) room.wrong(form);
+                if (!Room.isPair(part) || !room.isList(part)) room.wrong(form);
                 int head = room.car(part);
                 if (room.isNamed(head, "import") || room.isNamed(head, "begin")) continue;
                 if (!room.isNamed(head, "export")) room.wrong(form);
-                for (int e = room.cdr(part); Room.kind(e) == Room.PAIR; e = room.cdr(e)) {
+                for (int e = room.cdr(part), n = 0; n < Room.SIZE && Room.isPair(e); e = room.cdr(e), n++) {
                     int export = export(room.car(e), exports, form);
                     if (last == 0) exports = export;
                     else room.put(last + 2, export);
@@ -3233,7 +3251,7 @@ public final class SchemeHouse {
             if (libraries >= MOST_LIBRARIES && find(name) == 0) room.wrong(form);
             int table = newTable();
             all = 0;
-            for (int d = declarations; Room.kind(d) == Room.PAIR; d = room.cdr(d)) {
+            for (int d = declarations, turn = 0; turn < Room.SIZE && Room.isPair(d); d = room.cdr(d), turn++) {
                 int part = room.car(d);
                 if (room.isNamed(room.car(part), "import")) addSets(room.cdr(part), form);
             }
@@ -3245,14 +3263,17 @@ public final class SchemeHouse {
         private int export(int told, int exports, int form) {
             int inside = told;
             int outside = told;
-            if (Room.kind(told) == Room.PAIR) {
-                if (!room.isList(told) || room.pairs(told) != 3 || !room.isNamed(room.car(told), "rename")) room.wrong(form);
+            if (Room.isPair(told)) {
+                boolean right = room.isList(told) && room.pairs(told) == 3 && room.isNamed(room.car(told), "rename");
+                if (!right) room.wrong(form);
                 inside = room.car(room.cdr(told));
                 outside = room.car(room.cdr(room.cdr(told)));
             }
             if (!Room.isIdentifier(inside) || !Room.isIdentifier(outside)) room.wrong(form);
             int name = room.symbolOf(outside);
-            for (int e = exports; e != 0; e = room.at(e + 2)) if (room.at(e) == name) room.wrong(form);
+            for (int e = exports, turn = 0; turn <= MOST_EXPORTS && e != 0; e = room.at(e + 2), turn++) {
+                if (room.at(e) == name) room.wrong(form);
+            }
             return room.record(3, name, room.symbolOf(inside), 0, 0);
         }
 
@@ -3317,8 +3338,8 @@ public final class SchemeHouse {
 
         private boolean isLiteral(int id) {
             int rest = room.at(Room.index(macro) + 1);
-            while (Room.kind(rest) == Room.PAIR && room.car(rest) != id) rest = room.cdr(rest);
-            return Room.kind(rest) == Room.PAIR;
+            for (int n = 0; n < Room.SIZE && Room.isPair(rest) && room.car(rest) != id; n++) rest = room.cdr(rest);
+            return Room.isPair(rest);
         }
 
         private boolean isEllipsis(int v) {
@@ -3327,18 +3348,18 @@ public final class SchemeHouse {
             int own = room.at(Room.index(macro) + 3);
             if (own == Room.NIL ? room.symbolOf(v) != dots : v != own) return false;
             int rest = room.at(Room.index(macro) + 1);
-            while (Room.kind(rest) == Room.PAIR && room.car(rest) != v) rest = room.cdr(rest);
+            for (int n = 0; n < Room.SIZE && Room.isPair(rest) && room.car(rest) != v; n++) rest = room.cdr(rest);
             return rest == Room.NIL;
         }
 
         private boolean isEllipsisAt(int o, int i) {
-            if (i < 0) return Room.kind(o) == Room.PAIR && isEllipsis(room.car(o));
+            if (i < 0) return Room.isPair(o) && isEllipsis(room.car(o));
             return i < room.size(o) && isEllipsis(room.element(o, i));
         }
 
         /** Whether what is gone through has one more part. */
         private boolean hasPart(int o, int i) {
-            return i < 0 ? Room.kind(o) == Room.PAIR : i < room.size(o);
+            return i < 0 ? Room.isPair(o) : i < room.size(o);
         }
 
         private int part(int o, int i) {
@@ -3383,7 +3404,7 @@ public final class SchemeHouse {
                     if (i >= room.size(o)) continue;
                     walkInto(o, i + 1, depth, 0);
                     walkInto(room.element(o, i), -1, depth + 1, 0);
-                } else if (Room.kind(o) == Room.PAIR) {
+                } else if (Room.isPair(o)) {
                     count++;
                     walkInto(room.cdr(o), -1, depth, 0);
                     walkInto(room.car(o), -1, depth + 1, 0);
@@ -3399,21 +3420,21 @@ public final class SchemeHouse {
 
         /** The MACRO of RULES. */
         int bound(int told, int home) {
-            if (Room.kind(told) != Room.PAIR || !room.isList(told) || !isRules(room.car(told), home)) room.wrong(told);
+            if (!Room.isPair(told) || !room.isList(told) || !isRules(room.car(told), home)) room.wrong(told);
             int rest = room.cdr(told);
             int own = Room.NIL;
-            if (Room.kind(rest) == Room.PAIR && Room.isIdentifier(room.car(rest))) {
+            if (Room.isPair(rest) && Room.isIdentifier(room.car(rest))) {
                 own = room.car(rest);
                 rest = room.cdr(rest);
             }
-            if (Room.kind(rest) != Room.PAIR || !areIdentifiers(room.car(rest))) room.wrong(told);
+            if (!Room.isPair(rest) || !areIdentifiers(room.car(rest))) room.wrong(told);
             macro = Room.value(Room.MACRO, room.record(4, home, room.car(rest), room.cdr(rest), own));
-            for (int r = room.cdr(rest); Room.kind(r) == Room.PAIR; r = room.cdr(r)) {
+            for (int r = room.cdr(rest), turn = 0; turn < Room.SIZE && Room.isPair(r); r = room.cdr(r), turn++) {
                 int rule = room.car(r);
                 if (!room.isList(rule) || room.pairs(rule) != 2) room.wrong(told);
                 int pattern = room.car(rule);
                 int template = room.car(room.cdr(rule));
-                if (Room.kind(pattern) != Room.PAIR) room.wrong(told);
+                if (!Room.isPair(pattern)) room.wrong(told);
                 if (!fits(room.cdr(pattern), 100, 5000) || !fits(template, 100, 5000)) room.wrong(told);
                 if (!isPattern(room.cdr(pattern)) || !isTemplate(template)) room.wrong(told);
             }
@@ -3428,7 +3449,7 @@ public final class SchemeHouse {
 
         private boolean areIdentifiers(int list) {
             if (!room.isList(list)) return false;
-            for (int rest = list; Room.kind(rest) == Room.PAIR; rest = room.cdr(rest)) {
+            for (int rest = list, turn = 0; turn < Room.SIZE && Room.isPair(rest); rest = room.cdr(rest), turn++) {
                 if (!Room.isIdentifier(room.car(rest))) return false;
             }
             return true;
@@ -3517,8 +3538,7 @@ public final class SchemeHouse {
                 o = behind(o, i);
                 i = next(i);
                 int rows = 0;
-                while (escaped == 0 && isEllipsisAt(o, i)) {
-                    rows++;
+                for (; rows < Room.SIZE && escaped == 0 && isEllipsisAt(o, i); rows++) {
                     o = behind(o, i);
                     i = next(i);
                 }
@@ -3532,9 +3552,9 @@ public final class SchemeHouse {
         private boolean isPiece(int t, int depth, int escaped) {
             int piece = t;
             int plain = escaped;
-            if (plain == 0 && Room.kind(piece) == Room.PAIR && isEllipsis(room.car(piece))) {
+            if (plain == 0 && Room.isPair(piece) && isEllipsis(room.car(piece))) {
                 int second = room.cdr(piece);
-                if (Room.kind(second) != Room.PAIR || room.cdr(second) != Room.NIL) return false;
+                if (!Room.isPair(second) || room.cdr(second) != Room.NIL) return false;
                 piece = room.car(second);
                 plain = 1;
             }
@@ -3574,7 +3594,7 @@ public final class SchemeHouse {
                     walkInto(o, i + 1, 0, 0);
                     walkInto(room.element(o, i), -1, 0, 0);
                 }
-            } else if (Room.kind(o) == Room.PAIR) {
+            } else if (Room.isPair(o)) {
                 walkInto(room.cdr(o), -1, 0, 0);
                 walkInto(room.car(o), -1, 0, 0);
             } else if (Room.kind(o) == Room.VECTOR) {
@@ -3594,8 +3614,8 @@ public final class SchemeHouse {
             this.use = use;
             this.environment = environment;
             int rule = room.at(Room.index(macro) + 2);
-            if (Room.kind(rule) != Room.PAIR) room.spend(1);
-            for (; Room.kind(rule) == Room.PAIR; rule = room.cdr(rule)) {
+            if (!Room.isPair(rule)) room.spend(1);
+            for (int tried = 0; tried < Room.SIZE && Room.isPair(rule); rule = room.cdr(rule), tried++) {
                 room.spend(1);
                 int both = room.car(rule);
                 top = 0;
@@ -3685,13 +3705,13 @@ public final class SchemeHouse {
             return true;
         }
 
-        private void count() {
+        private void countThing() {
             things++;
             if (things > MOST_THINGS) room.wrong(use);
         }
 
         private void get(int id, int x) {
-            count();
+            countThing();
             if (within == 0) {
                 addVariable(id, 0);
                 setVariable(names - 1, 2, x);
@@ -3741,7 +3761,7 @@ public final class SchemeHouse {
             int from = firstOf(part);
             int to = from + lengthOf(part);
             for (int j = from; j < to; j++) {
-                count();
+                countThing();
                 int around = variable(j, 3);
                 int row = newRow(around);
                 if (around == 0) setVariable(j, 2, row);
@@ -3790,7 +3810,7 @@ public final class SchemeHouse {
             int i = walking(1);
             if (i < 0 && Room.kind(o) == Room.VECTOR) {
                 walkInto(o, 0, depth, 0);
-            } else if (i >= 0 || Room.kind(o) == Room.PAIR) {
+            } else if (i >= 0 || Room.isPair(o)) {
                 if (!hasPart(o, i)) return Room.NOTHING;
                 int restO = behind(o, i);
                 int restI = next(i);
@@ -3809,7 +3829,7 @@ public final class SchemeHouse {
             int thingO = frame(3);
             int thingI = frame(4);
             if (frame(6) > 0) {
-                count();
+                countThing();
                 setFrame(6, frame(6) - 1);
                 setFrame(3, behind(thingO, thingI));
                 setFrame(4, next(thingI));
@@ -3821,8 +3841,8 @@ public final class SchemeHouse {
             return true;
         }
 
-        // what becomes of it: frames of a list or vector that is made (what is left of the template, the first pair, the
-        // last, whether ELLIPSES are none, whether the part behind the point is made), or of a row
+        // what becomes of it: frames of a list or vector that is made (what is left of the template, the first pair,
+        // the last, whether ELLIPSES are none, whether the part behind the point is made), or of a row
 
         /** A template's datum made; or, when quoting, a copy without ALIASES. */
         int build(int template, boolean quoting) {
@@ -3842,7 +3862,7 @@ public final class SchemeHouse {
         private int begun(int t, int escaped) {
             int piece = t;
             int plain = escaped;
-            if (plain == 0 && Room.kind(piece) == Room.PAIR && isEllipsis(room.car(piece))) {
+            if (plain == 0 && Room.isPair(piece) && isEllipsis(room.car(piece))) {
                 piece = room.car(room.cdr(piece));
                 plain = 1;
             }
@@ -3909,8 +3929,7 @@ public final class SchemeHouse {
             o = behind(o, i);
             i = next(i);
             int rows = 0;
-            while (escaped == 0 && isEllipsisAt(o, i)) {
-                rows++;
+            for (; rows < Room.SIZE && escaped == 0 && isEllipsisAt(o, i); rows++) {
                 o = behind(o, i);
                 i = next(i);
             }
@@ -3935,7 +3954,7 @@ public final class SchemeHouse {
             return Room.value(Room.VECTOR, at);
         }
 
-        /** Rows of all variables in a part are gone over together: those saved in the walk have a row, an item to come. */
+        /** The rows of all variables in a part are gone over together: each is saved, with its row and next item. */
         private void beginRound(int part, int rows) {
             int from = saved;
             int count = -1;
@@ -4288,7 +4307,7 @@ public final class SchemeHouse {
             int scope = formals == Room.NIL ? 0 : room.record(3, environment, 0, 0, 0);
             int rest = formals;
             int n = 0;
-            for (; Room.kind(rest) == Room.PAIR; rest = room.cdr(rest)) {
+            for (int turn = 0; turn < Room.SIZE && Room.isPair(rest); rest = room.cdr(rest), turn++) {
                 formal(scope, room.car(rest), n);
                 n++;
             }
@@ -4318,7 +4337,7 @@ public final class SchemeHouse {
         private void look() {
             int rest = frame(1);
             int behind = frame(6);
-            while (rest == Room.NIL && behind != 0) {
+            for (int n = 0; n < Room.SIZE && rest == Room.NIL && behind != 0; n++) {
                 rest = room.at(behind);
                 behind = room.at(behind + 1);
             }
@@ -4366,7 +4385,7 @@ public final class SchemeHouse {
             int parts = room.pairs(form);
             if (parts < 2) room.wrong(form);
             int id = second();
-            if (Room.kind(id) == Room.PAIR) id = room.car(id);
+            if (Room.isPair(id)) id = room.car(id);
             else if (parts != 3) room.wrong(form);
             if (!Room.isIdentifier(id)) room.wrong(form);
             return id;
@@ -4382,7 +4401,7 @@ public final class SchemeHouse {
             int first = room.cons(form, frame(1));
             int n = 1 + room.pairs(frame(1));
             int last = first;
-            for (int behind = frame(6); behind != 0; behind = room.at(behind + 1)) {
+            for (int behind = frame(6), k = 0; k < Room.SIZE && behind != 0; behind = room.at(behind + 1), k++) {
                 int more = room.at(behind);
                 if (more == Room.NIL) continue;
                 n += room.pairs(more);
@@ -4414,7 +4433,7 @@ public final class SchemeHouse {
         /** The last pair of a copy of the list behind this pair, which takes the list's place. */
         private int ended(int pair) {
             int last = pair;
-            for (int rest = room.cdr(pair); Room.kind(rest) == Room.PAIR; rest = room.cdr(rest)) {
+            for (int rest = room.cdr(pair), n = 0; n < Room.SIZE && Room.isPair(rest); rest = room.cdr(rest), n++) {
                 int copy = room.cons(room.car(rest), Room.NIL);
                 room.put(Room.index(last) + 1, copy);
                 last = copy;
@@ -4426,7 +4445,7 @@ public final class SchemeHouse {
         void value() {
             int define = form;
             where = EXPRESSION;
-            if (Room.kind(second()) != Room.PAIR) {
+            if (!Room.isPair(second())) {
                 depth++;
                 form = third();
                 state = SEE;
@@ -4446,7 +4465,7 @@ public final class SchemeHouse {
         private void nextMacro() {
             int rest = frame(1);
             form = frame(5);
-            if (Room.kind(rest) == Room.PAIR) {
+            if (Room.isPair(rest)) {
                 int both = room.car(rest);
                 boolean right = room.isList(both) && room.pairs(both) == 2 && Room.isIdentifier(room.car(both));
                 if (!right) room.wrong(form);
@@ -4548,8 +4567,8 @@ public final class SchemeHouse {
             }
         }
 
-        boolean takes(Proc p, int n) {
-            return n >= least[p.ordinal() & 511] && n <= most[p.ordinal() & 511];
+        boolean takes(int number, int n) {
+            return n >= least[number & 511] && n <= most[number & 511];
         }
 
         /** The first operand from the left that isn't what the procedure takes, 0 if there is none. */
@@ -4585,18 +4604,16 @@ public final class SchemeHouse {
             }
         }
 
-        int type(Proc p, int operand) {
-            int list = room.pair(operand, Room.NIL);
-            return room.fail(Room.IS_TYPE, room.pair(room.names[p.ordinal() & 511], list));
+        int type(int operand) {
+            return room.failWith(Room.IS_TYPE, operand);
         }
 
-        private int range(Proc p, int operand) {
-            int list = room.pair(operand, Room.NIL);
-            return room.fail(Room.IS_RANGE, room.pair(room.names[p.ordinal() & 511], list));
+        private int range(int operand) {
+            return room.failWith(Room.IS_RANGE, operand);
         }
 
-        private int limit(Proc p) {
-            return room.fail(Room.IS_LIMIT, room.pair(room.names[p.ordinal() & 511], Room.NIL));
+        private int limit() {
+            return room.failNamed(Room.IS_LIMIT);
         }
 
         /** An exact integer from 0 on, as far as it can matter. */
@@ -4611,14 +4628,14 @@ public final class SchemeHouse {
             switch (p) {
                 case EQV:
                 case EQ: return Room.truth(room.eqv(a, room.arg(2)));
-                case EQUAL: return equal(p, a, room.arg(2));
+                case EQUAL: return equal(a, room.arg(2));
                 case NOT: return Room.truth(a == Room.FALSE);
                 case IS_BOOLEAN: return Room.truth(isBoolean(a));
                 case SAME_BOOLEANS: return Room.truth(isBoolean(a) && areSame(n));
                 case IS_SYMBOL: return Room.truth(Room.kind(a) == Room.SYMBOL);
                 case SAME_SYMBOLS: return Room.truth(areSame(n));
                 case SYMBOL_STRING: return symbolString(a);
-                case STRING_SYMBOL: return stringSymbol(p, a);
+                case STRING_SYMBOL: return stringSymbol(a);
                 case IS_PROCEDURE: return Room.truth(Room.kind(a) == Room.PROC);
                 case IS_ERROR: return Room.truth(Room.kind(a) == Room.ERROR);
                 case ERROR_MESSAGE: return room.at(Room.index(a));
@@ -4644,9 +4661,9 @@ public final class SchemeHouse {
             return s;
         }
 
-        private int stringSymbol(Proc p, int s) {
+        private int stringSymbol(int s) {
             int n = room.size(s);
-            if (n > 40) return range(p, s);
+            if (n > 40) return range(s);
             for (int i = 0; i < n; i++) room.sign[i & 63] = room.item(s, i);
             int symbol = room.intern(n);
             room.spend(room.fresh);
@@ -4661,7 +4678,7 @@ public final class SchemeHouse {
         }
 
         /** What is still to be compared is stacked: two objects and -1, or two vectors and how far they are. */
-        private int equal(Proc p, int first, int second) {
+        private int equal(int first, int second) {
             int count = 0;
             stacked = 0;
             stack(first, second, -1);
@@ -4677,7 +4694,7 @@ public final class SchemeHouse {
                     b = room.element(b, i);
                 }
                 count++;
-                if (count > MOST_COMPARED) return limit(p);
+                if (count > MOST_COMPARED) return limit();
                 if (room.eqv(a, b)) continue;
                 int kind = Room.kind(a);
                 if (kind != Room.kind(b)) return Room.FALSE;
@@ -4690,7 +4707,7 @@ public final class SchemeHouse {
                 if (!row && kind != Room.VECTOR || room.size(a) != room.size(b)) return Room.FALSE;
                 if (row) {
                     count += room.size(a) / 64;
-                    if (count > MOST_COMPARED) return limit(p);
+                    if (count > MOST_COMPARED) return limit();
                     if (!room.sameWords(Room.index(a), Room.index(b))) return Room.FALSE;
                 } else {
                     stack(a, b, 0);
@@ -4705,7 +4722,7 @@ public final class SchemeHouse {
             int a = room.arg(1);
             int radix = n == 2 ? small(room.arg(2)) : 10;
             boolean right = radix == 2 || radix == 8 || radix == 10 || radix == 16;
-            if (!right || p == Proc.NUMBER_STRING && radix != 10 && Room.kind(a) == Room.FLO) return range(p, room.arg(2));
+            if (!right || p == Proc.NUMBER_STRING && radix != 10 && Room.kind(a) == Room.FLO) return range(room.arg(2));
             if (p == Proc.NUMBER_STRING) {
                 int size = numerals.text(a, radix);
                 int s = room.row(Room.STRING, size);
@@ -4717,7 +4734,7 @@ public final class SchemeHouse {
             for (int i = 0; i < size; i++) numerals.setSign(i, room.item(a, i));
             if (!numerals.scan(size, radix)) return Room.FALSE;
             int v = numerals.finish();
-            if (v == Room.TOO_BIG) return limit(p);
+            if (v == Room.TOO_BIG) return limit();
             room.spend(numerals.units(v));
             return v;
         }
@@ -4728,7 +4745,7 @@ public final class SchemeHouse {
         int within(Proc p) {
             int v = room.arg(1);
             for (int i = p.text.length() - 2; i > 0; i--) {
-                if (Room.kind(v) != Room.PAIR) return type(p, room.arg(1));
+                if (!Room.isPair(v)) return type(room.arg(1));
                 v = p.text.charAt(i) == 'a' ? room.car(v) : room.cdr(v);
             }
             return v;
@@ -4738,7 +4755,7 @@ public final class SchemeHouse {
             int a = room.arg(1);
             int b = room.arg(2);
             switch (p) {
-                case IS_PAIR: return Room.truth(Room.kind(a) == Room.PAIR);
+                case IS_PAIR: return Room.truth(Room.isPair(a));
                 case IS_NULL: return Room.truth(a == Room.NIL);
                 case IS_LIST: return Room.truth(room.isList(a));
                 case CONS: return room.pair(a, b);
@@ -4746,10 +4763,12 @@ public final class SchemeHouse {
                 case SET_CDR:
                     room.put(Room.index(a) + (p == Proc.SET_CAR ? 0 : 1), b);
                     return Room.UNSPECIFIED;
-                case MAKE_LIST: return small(a) > MOST_SIZE ? range(p, a) : filled(small(a), n == 2 ? b : Room.UNSPECIFIED);
+                case MAKE_LIST:
+                    if (small(a) > MOST_SIZE) return range(a);
+                    return filled(small(a), n == 2 ? b : Room.UNSPECIFIED);
                 case LIST: return listed(n);
                 case LENGTH: return Room.fix(room.pairs(a));
-                case APPEND: return appended(p, n);
+                case APPEND: return appended(n);
                 case REVERSE: return reversed(a);
                 case LIST_TAIL:
                 case LIST_REF:
@@ -4757,10 +4776,10 @@ public final class SchemeHouse {
                 case MEMQ:
                 case MEMV: return member(a, b);
                 case ASSQ:
-                case ASSV: return associated(p, a, b);
-                case LIST_COPY: return room.pairs(a) < 0 ? type(p, a) : copied(a);
+                case ASSV: return associated(a, b);
+                case LIST_COPY: return room.pairs(a) < 0 ? type(a) : copied(a);
                 case ALL_PAIRS: return Room.truth(areAllPairs(a));
-                default: return areAllPairs(a) ? parts(p, a) : type(p, a);
+                default: return areAllPairs(a) ? parts(p, a) : type(a);
             }
         }
 
@@ -4778,18 +4797,20 @@ public final class SchemeHouse {
 
         private int reversed(int list) {
             int turned = Room.NIL;
-            for (int rest = list; Room.kind(rest) == Room.PAIR; rest = room.cdr(rest)) turned = room.pair(room.car(rest), turned);
+            for (int rest = list, turn = 0; turn < Room.SIZE && Room.isPair(rest); rest = room.cdr(rest), turn++) {
+                turned = room.pair(room.car(rest), turned);
+            }
             return turned;
         }
 
-        private int appended(Proc p, int n) {
-            for (int i = 1; i < n; i++) if (!room.isList(room.arg(i))) return type(p, room.arg(i));
+        private int appended(int n) {
+            for (int i = 1; i < n; i++) if (!room.isList(room.arg(i))) return type(room.arg(i));
             int all = n == 0 ? Room.NIL : room.arg(n);
             for (int i = n - 1; i > 0; i--) {
                 int copy = copied(room.arg(i));
                 if (copy == Room.NIL) continue;
                 int last = copy;
-                while (Room.kind(room.cdr(last)) == Room.PAIR) last = room.cdr(last);
+                for (int turn = 0; turn < Room.SIZE && Room.isPair(room.cdr(last)); turn++) last = room.cdr(last);
                 room.put(Room.index(last) + 1, all);
                 all = copy;
             }
@@ -4800,7 +4821,7 @@ public final class SchemeHouse {
         private int copied(int list) {
             int first = list;
             int last = Room.NIL;
-            for (int rest = list; Room.kind(rest) == Room.PAIR; rest = room.cdr(rest)) {
+            for (int rest = list, turn = 0; turn < Room.SIZE && Room.isPair(rest); rest = room.cdr(rest), turn++) {
                 int pair = room.pair(room.car(rest), room.cdr(rest));
                 if (last == Room.NIL) first = pair;
                 else room.put(Room.index(last) + 1, pair);
@@ -4811,14 +4832,14 @@ public final class SchemeHouse {
 
         private int far(Proc p, int list, int k) {
             int n = small(k);
-            if (n > FARTHEST) return range(p, k);
+            if (n > FARTHEST) return range(k);
             int rest = list;
             for (int i = 0; i < n; i++) {
-                if (Room.kind(rest) != Room.PAIR) return range(p, k);
+                if (!Room.isPair(rest)) return range(k);
                 rest = room.cdr(rest);
             }
             if (p == Proc.LIST_TAIL) return rest;
-            if (Room.kind(rest) != Room.PAIR) return range(p, k);
+            if (!Room.isPair(rest)) return range(k);
             if (p == Proc.LIST_REF) return room.car(rest);
             room.put(Room.index(rest), room.arg(3));
             return Room.UNSPECIFIED;
@@ -4826,14 +4847,16 @@ public final class SchemeHouse {
 
         private int member(int v, int list) {
             int rest = list;
-            while (Room.kind(rest) == Room.PAIR && !room.eqv(v, room.car(rest))) rest = room.cdr(rest);
+            for (int n = 0; n < Room.SIZE && Room.isPair(rest) && !room.eqv(v, room.car(rest)); n++) {
+                rest = room.cdr(rest);
+            }
             return rest == Room.NIL ? Room.FALSE : rest;
         }
 
-        private int associated(Proc p, int v, int list) {
-            for (int rest = list; Room.kind(rest) == Room.PAIR; rest = room.cdr(rest)) {
+        private int associated(int v, int list) {
+            for (int rest = list, turn = 0; turn < Room.SIZE && Room.isPair(rest); rest = room.cdr(rest), turn++) {
                 int pair = room.car(rest);
-                if (Room.kind(pair) != Room.PAIR) return type(p, list);
+                if (!Room.isPair(pair)) return type(list);
                 if (room.eqv(v, room.car(pair))) return pair;
             }
             return Room.FALSE;
@@ -4841,14 +4864,16 @@ public final class SchemeHouse {
 
         private boolean areAllPairs(int list) {
             int rest = list;
-            while (Room.kind(rest) == Room.PAIR && Room.kind(room.car(rest)) == Room.PAIR) rest = room.cdr(rest);
+            for (int n = 0; n < Room.SIZE && Room.isPair(rest) && Room.isPair(room.car(rest)); n++) {
+                rest = room.cdr(rest);
+            }
             return rest == Room.NIL;
         }
 
         private int parts(Proc p, int list) {
             int first = Room.NIL;
             int last = Room.NIL;
-            for (int rest = list; Room.kind(rest) == Room.PAIR; rest = room.cdr(rest)) {
+            for (int rest = list, turn = 0; turn < Room.SIZE && Room.isPair(rest); rest = room.cdr(rest), turn++) {
                 int pair = room.car(rest);
                 pair = room.pair(p == Proc.CARS ? room.car(pair) : room.cdr(pair), Room.NIL);
                 if (last == Room.NIL) first = pair;
@@ -4880,7 +4905,7 @@ public final class SchemeHouse {
                 case IS_LOWER: return Room.truth(up(c) != c);
                 case DIGIT_VALUE: return c >= '0' && c <= '9' ? Room.fix(c - '0') : Room.FALSE;
                 case CHAR_INTEGER: return Room.fix(c);
-                case INTEGER_CHAR: return small(a) > 127 ? range(p, a) : Room.character(small(a));
+                case INTEGER_CHAR: return small(a) > 127 ? range(a) : Room.character(small(a));
                 case CHAR_UP: return Room.character(up(c));
                 case CHAR_DOWN: return Room.character(down(c));
                 default: return Room.truth(inOrder(p, n));
@@ -4939,11 +4964,11 @@ public final class SchemeHouse {
         }
 
         /** The optional operands from the one at i on are a start and an end: whether they are in the range. */
-        private boolean isSpan(Proc p, int i, int n, int size) {
+        private boolean isSpan(int i, int n, int size) {
             from = n >= i ? small(room.arg(i)) : 0;
             to = n > i ? small(room.arg(i + 1)) : size;
-            if (from > size) range(p, room.arg(i));
-            else if (to < from || to > size) range(p, room.arg(i + 1));
+            if (from > size) range(room.arg(i));
+            else if (to < from || to > size) range(room.arg(i + 1));
             return room.fault == 0;
         }
 
@@ -4953,33 +4978,35 @@ public final class SchemeHouse {
                 case IS_STRING: return Room.truth(Room.kind(a) == Room.STRING);
                 case IS_VECTOR: return Room.truth(Room.kind(a) == Room.VECTOR);
                 case IS_BYTES: return Room.truth(Room.kind(a) == Room.BYTES);
-                case MAKE_STRING: return make(p, Room.STRING, n == 2 ? room.arg(2) : Room.character(' '));
-                case MAKE_VECTOR: return make(p, Room.VECTOR, n == 2 ? room.arg(2) : Room.UNSPECIFIED);
-                case MAKE_BYTES: return make(p, Room.BYTES, n == 2 ? room.arg(2) : Room.fix(0));
-                case STRING: return gathered(p, Room.STRING, n);
-                case VECTOR: return gathered(p, Room.VECTOR, n);
-                case BYTES: return gathered(p, Room.BYTES, n);
+                case MAKE_STRING: return make(Room.STRING, n == 2 ? room.arg(2) : Room.character(' '));
+                case MAKE_VECTOR: return make(Room.VECTOR, n == 2 ? room.arg(2) : Room.UNSPECIFIED);
+                case MAKE_BYTES: return make(Room.BYTES, n == 2 ? room.arg(2) : Room.fix(0));
+                case STRING: return gathered(Room.STRING, n);
+                case VECTOR: return gathered(Room.VECTOR, n);
+                case BYTES: return gathered(Room.BYTES, n);
                 case STRING_LENGTH:
                 case VECTOR_LENGTH:
                 case BYTES_LENGTH: return Room.fix(room.size(a));
                 case STRING_REF:
                 case VECTOR_REF:
-                case BYTES_REF: return small(room.arg(2)) < room.size(a) ? get(a, small(room.arg(2))) : range(p, room.arg(2));
+                case BYTES_REF:
+                    if (small(room.arg(2)) >= room.size(a)) return range(room.arg(2));
+                    return get(a, small(room.arg(2)));
                 case STRING_SET:
                 case VECTOR_SET:
-                case BYTES_SET: return put(p, a);
+                case BYTES_SET: return put(a);
                 case STRING_APPEND: return joined(Room.STRING, n);
                 case VECTOR_APPEND: return joined(Room.VECTOR, n);
                 case BYTES_APPEND: return joined(Room.BYTES, n);
                 case STRING_UP:
                 case STRING_DOWN: return cased(a, p == Proc.STRING_UP);
-                case LIST_STRING: return ofList(p, Room.STRING, a);
-                case LIST_VECTOR: return ofList(p, Room.VECTOR, a);
+                case LIST_STRING: return ofList(Room.STRING, a);
+                case LIST_VECTOR: return ofList(Room.VECTOR, a);
                 case STRING_COPY_TO:
                 case VECTOR_COPY_TO:
-                case BYTES_COPY_TO: return copyTo(p, n);
+                case BYTES_COPY_TO: return copyTo(n);
                 case STRING_FILL:
-                case VECTOR_FILL: return fill(p, n);
+                case VECTOR_FILL: return fill(n);
                 default: return span(p, n);
             }
         }
@@ -4989,27 +5016,27 @@ public final class SchemeHouse {
             return kind != Room.BYTES || small(v) < 256;
         }
 
-        private int make(Proc p, int kind, int v) {
+        private int make(int kind, int v) {
             int n = small(room.arg(1));
-            if (n > MOST_SIZE) return range(p, room.arg(1));
-            if (!isFit(kind, v)) return range(p, v);
+            if (n > MOST_SIZE) return range(room.arg(1));
+            if (!isFit(kind, v)) return range(v);
             int row = made(kind, n);
             for (int i = 0; i < n; i++) set(row, i, v);
             return row;
         }
 
-        private int gathered(Proc p, int kind, int n) {
-            for (int i = 1; i <= n; i++) if (!isFit(kind, room.arg(i))) return range(p, room.arg(i));
+        private int gathered(int kind, int n) {
+            for (int i = 1; i <= n; i++) if (!isFit(kind, room.arg(i))) return range(room.arg(i));
             int row = made(kind, n);
             for (int i = 0; i < n; i++) set(row, i, room.arg(i + 1));
             return row;
         }
 
-        private int put(Proc p, int row) {
+        private int put(int row) {
             int i = small(room.arg(2));
             int v = room.arg(3);
-            if (i >= room.size(row)) return range(p, room.arg(2));
-            if (!isFit(Room.kind(row), v)) return range(p, v);
+            if (i >= room.size(row)) return range(room.arg(2));
+            if (!isFit(Room.kind(row), v)) return range(v);
             set(row, i, v);
             return Room.UNSPECIFIED;
         }
@@ -5034,28 +5061,28 @@ public final class SchemeHouse {
             return row;
         }
 
-        private int ofList(Proc p, int kind, int list) {
+        private int ofList(int kind, int list) {
             int n = 0;
-            for (int rest = list; Room.kind(rest) == Room.PAIR; rest = room.cdr(rest)) {
-                if (!isFit(kind, room.car(rest))) return type(p, list);
+            for (int rest = list, turn = 0; turn < Room.SIZE && Room.isPair(rest); rest = room.cdr(rest), turn++) {
+                if (!isFit(kind, room.car(rest))) return type(list);
                 n++;
             }
             int row = made(kind, n);
             int i = 0;
-            for (int rest = list; Room.kind(rest) == Room.PAIR; rest = room.cdr(rest)) {
+            for (int rest = list, turn = 0; turn < Room.SIZE && Room.isPair(rest); rest = room.cdr(rest), turn++) {
                 set(row, i, room.car(rest));
                 i++;
             }
             return row;
         }
 
-        private int copyTo(Proc p, int n) {
+        private int copyTo(int n) {
             int target = room.arg(1);
             int at = small(room.arg(2));
             int source = room.arg(3);
-            if (at > room.size(target)) return range(p, room.arg(2));
-            if (!isSpan(p, 4, n, room.size(source))) return Room.NOTHING;
-            if (to - from > room.size(target) - at) return range(p, room.arg(2));
+            if (at > room.size(target)) return range(room.arg(2));
+            if (!isSpan(4, n, room.size(source))) return Room.NOTHING;
+            if (to - from > room.size(target) - at) return range(room.arg(2));
             int size = to - from;
             for (int i = 0; i < size; i++) {
                 int j = at > from ? size - 1 - i : i;
@@ -5064,9 +5091,9 @@ public final class SchemeHouse {
             return Room.UNSPECIFIED;
         }
 
-        private int fill(Proc p, int n) {
+        private int fill(int n) {
             int row = room.arg(1);
-            if (!isSpan(p, 3, n, room.size(row))) return Room.NOTHING;
+            if (!isSpan(3, n, room.size(row))) return Room.NOTHING;
             for (int i = from; i < to; i++) set(row, i, room.arg(2));
             return Room.UNSPECIFIED;
         }
@@ -5074,7 +5101,7 @@ public final class SchemeHouse {
         /** A part of a row, as one of the same or of another sort. */
         private int span(Proc p, int n) {
             int row = room.arg(1);
-            if (!isSpan(p, 2, n, room.size(row))) return Room.NOTHING;
+            if (!isSpan(2, n, room.size(row))) return Room.NOTHING;
             switch (p) {
                 case STRING_LIST:
                 case VECTOR_LIST:
@@ -5084,10 +5111,10 @@ public final class SchemeHouse {
                 case STRING_VECTOR: return turned(row, Room.VECTOR);
                 case STRING_BYTES: return turned(row, Room.BYTES);
                 case VECTOR_STRING:
-                    for (int i = from; i < to; i++) if (!Room.isChar(get(row, i))) return type(p, row);
+                    for (int i = from; i < to; i++) if (!Room.isChar(get(row, i))) return type(row);
                     return turned(row, Room.STRING);
                 case BYTES_STRING:
-                    for (int i = from; i < to; i++) if (room.item(row, i) > 127) return range(p, row);
+                    for (int i = from; i < to; i++) if (room.item(row, i) > 127) return range(row);
                     return turned(row, Room.STRING);
                 default: return turned(row, Room.kind(row));
             }
@@ -5116,7 +5143,7 @@ public final class SchemeHouse {
                     scribe.sign(Room.code(a));
                     return Room.UNSPECIFIED;
                 case WRITE_STRING:
-                    if (!isSpan(p, 2, n, room.size(a))) return Room.NOTHING;
+                    if (!isSpan(2, n, room.size(a))) return Room.NOTHING;
                     scribe.span(a, from, to);
                     return Room.UNSPECIFIED;
                 case PEEK_CHAR: return c < 0 ? Room.END : Room.character(c);
@@ -5133,7 +5160,7 @@ public final class SchemeHouse {
                 }
                 default: {
                     int k = small(a);
-                    if (k > MOST_SIZE) return range(p, a);
+                    if (k > MOST_SIZE) return range(a);
                     return k > 0 && c < 0 ? Room.END : taken(Math.min(k, reader.inputLeft()));
                 }
             }
@@ -5161,13 +5188,13 @@ public final class SchemeHouse {
                     return room.procedure(Room.PARAMETER, a, b, 0);
                 case CONVERTER: return room.at(Room.index(a) + 2);
                 case TYPE: return recordType(b);
-                case CONSTRUCTOR: return maker(p, a, b);
+                case CONSTRUCTOR: return maker(a, b);
                 case PREDICATE:
                     room.spend(1);
                     return room.procedure(Room.ASKER, a, 0, 0);
                 default: {
                     int field = field(a, b);
-                    if (field < 0) return range(p, b);
+                    if (field < 0) return range(b);
                     room.spend(1);
                     return room.procedure(p == Proc.ACCESSOR ? Room.GETTER : Room.SETTER, a, field, 0);
                 }
@@ -5209,10 +5236,10 @@ public final class SchemeHouse {
             return i < n ? i : -1;
         }
 
-        private int maker(Proc p, int type, int names) {
+        private int maker(int type, int names) {
             int n = room.pairs(names);
-            for (int rest = names; Room.kind(rest) == Room.PAIR; rest = room.cdr(rest)) {
-                if (field(type, room.car(rest)) < 0) return range(p, names);
+            for (int rest = names, turn = 0; turn < Room.SIZE && Room.isPair(rest); rest = room.cdr(rest), turn++) {
+                if (field(type, room.car(rest)) < 0) return range(names);
             }
             room.spend(1 + n);
             int at = room.make(3 + n);
@@ -5230,7 +5257,7 @@ public final class SchemeHouse {
 
     /** Does the turns: reads, expands, evaluates, writes, each a step at a time. */
     private static final class Machine {
-        static final int READING = 0, NEXT = 1, EXPAND = 2, EVALUATE = 3, GIVE = 4, APPLY = 5, CALL = 6, RAISE = 7;
+        static final int READING = 0, NEXT = 1, EXPAND = 2, COMPUTE = 3, GIVE = 4, APPLY = 5, CALL = 6, RAISE = 7;
         static final int INPUT = 8, WRITE = 9, RESULT = 10, FINISH = 11, ENDED = 12;
         static final int IF_FRAME = 0, SET_FRAME = 1, SEQUENCE_FRAME = 2, APPLICATION_FRAME = 3, WITH_FRAME = 4;
         static final int VALUES_FRAME = 5, DEFINE_FRAME = 6;
@@ -5243,16 +5270,12 @@ public final class SchemeHouse {
         private int mode;
         private final Room room;
         private final Tables tables;
-        private final Rules rules;
         private final Expander expander;
-        private final Numbers numbers;
+        private final Rules rules;
         private final Procedures procedures;
         private final Reader reader;
-        private final Scribe scribe;
         private int raiser;
         private int winds;
-        private int accessor;
-        private int modifier;
         private int code;
         private int environment;
         private int value;
@@ -5264,15 +5287,13 @@ public final class SchemeHouse {
         private int at;
         private int last;
 
-        Machine(Expander expander, Numbers numbers, Procedures procedures) {
+        Machine(Expander expander, Procedures procedures) {
             this.room = expander.room;
             this.tables = expander.tables;
-            this.rules = expander.rules;
             this.expander = expander;
-            this.numbers = numbers;
+            this.rules = expander.rules;
             this.procedures = procedures;
             this.reader = procedures.reader;
-            this.scribe = procedures.scribe;
         }
 
         /** The PROCEDURES are put into the house's table, ahead of the PRELUDE. */
@@ -5282,8 +5303,8 @@ public final class SchemeHouse {
                 room.names[i & 511] = name;
                 tables.define(name, tables.house, room.procedure(Room.PRIMITIVE, i, 0, 0));
             }
-            accessor = room.symbol("accessor");
-            modifier = room.symbol("modifier");
+            room.symbol("accessor");
+            room.symbol("modifier");
         }
 
         /** The PRELUDE was evaluated: what it made is what the house has at first. */
@@ -5295,7 +5316,7 @@ public final class SchemeHouse {
         }
 
         void begin(byte[] text, int size) {
-            scribe.clear();
+            procedures.scribe.clear();
             room.work = 0;
             room.fault = 0;
             done = 0;
@@ -5310,7 +5331,7 @@ public final class SchemeHouse {
 
         /** Nothing was evaluated yet. */
         void clear() {
-            scribe.clear();
+            procedures.scribe.clear();
             room.work = 0;
             done = 0;
         }
@@ -5344,7 +5365,7 @@ public final class SchemeHouse {
         private void finish() {
             mode = ENDED;
             if (last == Room.NOTHING) return;
-            scribe.begin(last, false, true);
+            procedures.scribe.begin(last, false, true);
             mode = RESULT;
         }
 
@@ -5372,17 +5393,17 @@ public final class SchemeHouse {
                                 act();
                         }
                         break;
-                    case EVALUATE: evaluate(); break;
+                    case COMPUTE: compute(); break;
                     case GIVE: give(); break;
                     case APPLY: apply(); break;
                     case CALL:
                         int unfit = procedures.unfit(proc, operands);
                         switch (unfit > 0 ? REFUSED : proc.group) {
-                            case REFUSED: answer(procedures.type(proc, room.arg(unfit))); break;
+                            case REFUSED: answer(procedures.type(room.arg(unfit))); break;
                             case 0: answer(procedures.basic(proc, operands)); break;
-                            case 1: answer(numbers.ask(proc, operands)); break;
-                            case 2: answer(numbers.reckon(proc, operands)); break;
-                            case 3: answer(numbers.part(proc)); break;
+                            case 1: answer(procedures.numbers.ask(proc, operands)); break;
+                            case 2: answer(procedures.numbers.reckon(proc, operands)); break;
+                            case 3: answer(procedures.numbers.part(proc)); break;
                             case 4: answer(procedures.numeral(proc, operands)); break;
                             case 5: answer(procedures.within(proc)); break;
                             case 6: answer(procedures.lists(proc, operands)); break;
@@ -5400,8 +5421,8 @@ public final class SchemeHouse {
                         if (reader.done) haveRead();
                         break;
                     default:
-                        scribe.step();
-                        if (scribe.done) haveWritten();
+                        procedures.scribe.step();
+                        if (procedures.scribe.done) haveWritten();
                 }
             }
         }
@@ -5451,7 +5472,7 @@ public final class SchemeHouse {
                 tables.install(list);
                 value = Room.UNSPECIFIED;
                 agenda = room.at(agenda + 3);
-            } else if (Room.kind(list) != Room.PAIR) {
+            } else if (!Room.isPair(list)) {
                 agenda = room.at(agenda + 3);
             } else {
                 room.put(agenda + 1, room.cdr(list));
@@ -5488,21 +5509,23 @@ public final class SchemeHouse {
                     room.spend(1);
                     room.pushFrame(DEFINE_FRAME, expander.symbol, table, 0, 0);
                     code = room.at(expander.root);
-                    mode = EVALUATE;
+                    mode = COMPUTE;
                     break;
                 default:
                     code = room.at(expander.root);
-                    mode = EVALUATE;
+                    mode = COMPUTE;
             }
         }
 
         private void library(int library) {
             agenda = room.record(4, LIBRARY, library, 0, agenda);
             int begins = 0;
-            for (int rest = room.cdr(room.cdr(expander.form)); Room.kind(rest) == Room.PAIR; rest = room.cdr(rest)) {
-                if (room.isNamed(room.car(room.car(rest)), "begin")) begins = room.record(2, room.car(rest), begins, 0, 0);
+            int rest = room.cdr(room.cdr(expander.form));
+            for (int n = 0; n < Room.SIZE && Room.isPair(rest); rest = room.cdr(rest), n++) {
+                int part = room.car(rest);
+                if (room.isNamed(room.car(part), "begin")) begins = room.record(2, part, begins, 0, 0);
             }
-            for (; begins != 0; begins = room.at(begins + 1)) {
+            for (int n = 0; n < Room.SIZE && begins != 0; begins = room.at(begins + 1), n++) {
                 agenda = room.record(4, FORMS, room.cdr(room.at(begins)), room.at(library + 1), agenda);
             }
         }
@@ -5534,7 +5557,7 @@ public final class SchemeHouse {
             return frame;
         }
 
-        private void evaluate() {
+        private void compute() {
             int sort = room.at(code);
             int v = quick(code);
             if (v != Room.NOTHING) {
@@ -5577,7 +5600,7 @@ public final class SchemeHouse {
 
         private void branch(int v) {
             code = room.at(code + (v == Room.FALSE ? 3 : 2));
-            mode = EVALUATE;
+            mode = COMPUTE;
             if (code == 0) {
                 value = Room.UNSPECIFIED;
                 mode = GIVE;
@@ -5590,7 +5613,7 @@ public final class SchemeHouse {
             if (i < room.at(sequence + 2)) room.spend(1);
             if (i + 1 < room.at(sequence + 3)) room.pushFrame(SEQUENCE_FRAME, sequence, environment, i, 0);
             code = room.at(sequence + 4 + i);
-            mode = EVALUATE;
+            mode = COMPUTE;
         }
 
         /**
@@ -5607,7 +5630,7 @@ public final class SchemeHouse {
                     for (int j = held; j < i; j++) values = room.pushValue(room.arg(j), values);
                     room.pushFrame(APPLICATION_FRAME, code, environment, i, values);
                     code = part;
-                    mode = EVALUATE;
+                    mode = COMPUTE;
                     return;
                 }
                 room.spend(1);
@@ -5725,7 +5748,8 @@ public final class SchemeHouse {
         private boolean primitive(int number) {
             if (number < 0 || number >= PROCEDURES.length) return false;
             proc = PROCEDURES[number];
-            if (!procedures.takes(proc, operands)) return false;
+            room.called = number;
+            if (!procedures.takes(number, operands)) return false;
             mode = CALL;
             return true;
         }
@@ -5745,7 +5769,7 @@ public final class SchemeHouse {
                 environment = frame;
             }
             code = room.at(lambda + 4);
-            mode = EVALUATE;
+            mode = COMPUTE;
             return true;
         }
 
@@ -5780,9 +5804,9 @@ public final class SchemeHouse {
         private int parameter(int parameter, int value) {
             mode = GIVE;
             int rest = room.parameters;
-            for (int n = 0; n < Room.SIZE && Room.kind(rest) == Room.PAIR; n++) {
+            for (int n = 0; n < Room.SIZE && Room.isPair(rest); n++) {
                 int pair = room.car(rest);
-                if (Room.kind(pair) == Room.PAIR && room.car(pair) == parameter) return room.cdr(pair);
+                if (Room.isPair(pair) && room.car(pair) == parameter) return room.cdr(pair);
                 rest = room.cdr(rest);
             }
             return value;
@@ -5825,7 +5849,7 @@ public final class SchemeHouse {
             int record = room.arg(1);
             if (!isRecord(record, room.at(procedure + 1))) {
                 int list = room.pair(record, Room.NIL);
-                room.fail(Room.IS_TYPE, room.pair(getter ? accessor : modifier, list));
+                room.fail(Room.IS_TYPE, room.pair(room.symbol(getter ? "accessor" : "modifier"), list));
                 mode = RAISE;
                 return;
             }
@@ -5869,7 +5893,7 @@ public final class SchemeHouse {
                     mode = INPUT;
                     break;
                 default:
-                    scribe.begin(a, proc == Proc.DISPLAY, false);
+                    procedures.scribe.begin(a, proc == Proc.DISPLAY, false);
                     mode = WRITE;
             }
         }
@@ -5896,7 +5920,7 @@ public final class SchemeHouse {
         private void spread() {
             int list = room.arg(operands);
             if (!room.isList(list)) {
-                procedures.type(proc, list);
+                procedures.type(list);
                 mode = RAISE;
                 return;
             }
@@ -5914,7 +5938,7 @@ public final class SchemeHouse {
 
         // conditions
 
-        private static String told(int condition) {
+        private static String messageOf(int condition) {
             switch (condition) {
                 case Room.IS_TYPE: return "type";
                 case Room.IS_RANGE: return "range";
@@ -5940,23 +5964,26 @@ public final class SchemeHouse {
                 message = copyOf(expander.message);
                 int rest = room.cdr(room.cdr(room.culprit));
                 int last = Room.NIL;
-                for (; Room.kind(rest) == Room.PAIR; rest = room.cdr(rest)) {
+                for (int turn = 0; turn < Room.SIZE && Room.isPair(rest); rest = room.cdr(rest), turn++) {
                     int datum = room.car(rest);
-                    datum = rules.fits(datum, Expander.DEEPEST, Expander.MOST_DATA) ? rules.build(datum, true) : Room.NIL;
-                    int pair = room.pair(datum, Room.NIL);
+                    int pair = room.pair(isCopied(datum) ? rules.build(datum, true) : Room.NIL, Room.NIL);
                     if (last == Room.NIL) irritants = pair;
                     else room.put(Room.index(last) + 1, pair);
                     last = pair;
                 }
             } else {
-                if (condition == Room.IS_SYNTAX && rules.fits(room.culprit, Expander.DEEPEST, Expander.MOST_DATA)) {
+                if (condition == Room.IS_SYNTAX && isCopied(room.culprit)) {
                     irritants = room.pair(rules.build(room.culprit, true), Room.NIL);
                 }
-                message = room.newString(told(condition));
+                message = room.newString(messageOf(condition));
             }
             room.spend(1);
             room.setArg(1, Room.value(Room.ERROR, room.record(2, message, irritants, 0, 0)));
             applyTo(raiser, 1);
+        }
+
+        private boolean isCopied(int datum) {
+            return rules.fits(datum, Expander.DEEPEST, Expander.MOST_DATA);
         }
 
         private int copyOf(int string) {
