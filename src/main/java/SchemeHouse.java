@@ -244,7 +244,7 @@ public final class SchemeHouse {
     /** What all others share: the words that Scheme's objects are made of, WORK, and the condition at hand. */
     private static final class Room {
         static final int SIZE = 1 << 20;
-        static final int MASK = SIZE - 1;
+        static final int AT_FIRST = 1 << 17;
         static final int BUCKETS = 1024;
         static final int CALLS = 1 << 16;
         static final int SCRATCH = 1 << 18;
@@ -268,7 +268,7 @@ public final class SchemeHouse {
         static final int IS_TYPE = 1, IS_RANGE = 2, IS_ARITY = 3, IS_CALL = 4, IS_UNBOUND = 5, IS_UNASSIGNED = 6;
         static final int IS_ZERO = 7, IS_LIMIT = 8, IS_READ = 9, IS_DEAD = 10, IS_SYNTAX = 11;
 
-        final int[] words = new int[SIZE];
+        int[] words = new int[AT_FIRST];
         final int[] scratch = new int[SCRATCH];
         final int[] args = new int[CALLS];
         final int[] names = new int[512];
@@ -290,11 +290,11 @@ public final class SchemeHouse {
         private int[] first = new int[0];
 
         int at(int i) {
-            return words[i & MASK];
+            return words[i & (words.length - 1)];
         }
 
         void put(int i, int v) {
-            words[i & MASK] = v;
+            words[i & (words.length - 1)] = v;
         }
 
         int arg(int i) {
@@ -415,6 +415,13 @@ public final class SchemeHouse {
             }
             int start = top;
             top += n;
+            if (top > words.length) {
+                int size = words.length;
+                while (size < top && size < SIZE) size *= 2;
+                int[] more = new int[size];
+                System.arraycopy(words, 0, more, 0, words.length);
+                words = more;
+            }
             return start;
         }
 
@@ -434,14 +441,14 @@ public final class SchemeHouse {
         }
 
         int car(int v) {
-            return words[v >>> 6 & MASK];
+            return words[v >>> 6 & (words.length - 1)];
         }
 
         int cdr(int v) {
-            return words[(v >>> 6) + 1 & MASK];
+            return words[(v >>> 6) + 1 & (words.length - 1)];
         }
 
-        /** A record of two to five words that is no object of Scheme's: its index. */
+        /** A record of two to four words that is no object of Scheme's: its index. */
         int record(int n, int a, int b, int c, int d) {
             int i = make(n);
             put(i, a);
@@ -453,23 +460,25 @@ public final class SchemeHouse {
 
         /** How many elements a string, vector, bytevector has. */
         int size(int v) {
-            return words[v >>> 6 & MASK];
+            return words[v >>> 6 & (words.length - 1)];
         }
 
         int item(int v, int i) {
-            return words[(v >>> 6) + 1 + i & MASK];
+            return words[(v >>> 6) + 1 + i & (words.length - 1)];
         }
 
         void setItem(int v, int i, int to) {
-            words[(v >>> 6) + 1 + i & MASK] = to;
+            words[(v >>> 6) + 1 + i & (words.length - 1)] = to;
         }
 
         int element(int vector, int i) {
-            return words[words[(vector >>> 6) + 1 & MASK] + i & MASK];
+            int at = words[(vector >>> 6) + 1 & (words.length - 1)];
+            return words[at + i & (words.length - 1)];
         }
 
         void setElement(int vector, int i, int to) {
-            words[words[(vector >>> 6) + 1 & MASK] + i & MASK] = to;
+            int at = words[(vector >>> 6) + 1 & (words.length - 1)];
+            words[at + i & (words.length - 1)] = to;
         }
 
         /** A string or bytevector whose items are still to be put. */
@@ -583,23 +592,25 @@ public final class SchemeHouse {
 
         /** The first word tells how many there are behind it. */
         boolean sameWords(int i, int j) {
-            int n = Math.abs(words[i & MASK]);
-            for (int k = 0; k <= n; k++) if (words[(i + k) & MASK] != words[(j + k) & MASK]) return false;
+            int n = Math.abs(words[i & (words.length - 1)]);
+            for (int k = 0; k <= n; k++) {
+                if (words[i + k & (words.length - 1)] != words[j + k & (words.length - 1)]) return false;
+            }
             return true;
         }
 
         int symbolOf(int identifier) {
             int v = identifier;
-            for (int n = 0; n < SIZE && (v & 63) == ALIAS << 1; n++) v = words[v >>> 6 & MASK];
+            for (int n = 0; n < SIZE && (v & 63) == ALIAS << 1; n++) v = words[v >>> 6 & (words.length - 1)];
             return v;
         }
 
         int symbolSize(int symbol) {
-            return words[(symbol >>> 6) + 2 & MASK];
+            return words[(symbol >>> 6) + 2 & (words.length - 1)];
         }
 
         int symbolSign(int symbol, int i) {
-            return words[(symbol >>> 6) + 3 + i & MASK];
+            return words[(symbol >>> 6) + 3 + i & (words.length - 1)];
         }
 
         /** Whether v is an IDENTIFIER whose SYMBOL has this name. */
@@ -633,8 +644,8 @@ public final class SchemeHouse {
         }
 
         private boolean hasSigns(int symbol, int n) {
-            if (words[symbol + 2 & MASK] != n) return false;
-            for (int j = 0; j < n; j++) if (words[symbol + 3 + j & MASK] != sign[j & 63]) return false;
+            if (words[symbol + 2 & (words.length - 1)] != n) return false;
+            for (int j = 0; j < n; j++) if (words[symbol + 3 + j & (words.length - 1)] != sign[j & 63]) return false;
             return true;
         }
 
@@ -711,9 +722,10 @@ public final class SchemeHouse {
 
         /** The register gets n limbs (the highest is not 0) that stand in words from i on. */
         void load(int a, int[] words, int i, int n) {
+            if (words.length == 0) return;
             int[] x = limbs[a & 15];
             int size = Math.min(n, LIMBS);
-            for (int j = 0; j < size; j++) x[j & INDEX] = words[(i + j) & Room.MASK];
+            for (int j = 0; j < size; j++) x[j & INDEX] = words[i + j & (words.length - 1)];
             sizes[a & 15] = size;
         }
 
@@ -924,14 +936,19 @@ public final class SchemeHouse {
         }
 
         void gcd(int to, int a, int b) {
-            copy(12, a);
-            copy(13, b);
-            for (int n = 0; n < LIMBS * BITS * 2 && sizes[13] != 0; n++) {
-                divide(10, 14, 12, 13);
-                copy(12, 13);
-                copy(13, 14);
+            int x = 12;
+            int y = 13;
+            int rest = 14;
+            copy(x, a);
+            copy(y, b);
+            for (int n = 0; n < LIMBS * BITS * 2 && sizes[y & 15] != 0; n++) {
+                divide(10, rest, x, y);
+                int free = x;
+                x = y;
+                y = rest;
+                rest = free;
             }
-            copy(to, 12);
+            copy(to, x);
         }
 
         /** The greatest number whose square is not more. */
@@ -2605,12 +2622,12 @@ public final class SchemeHouse {
         }
 
         private int colour(int v) {
-            int i = Room.index(v) & Room.MASK;
+            int i = Room.index(v) & (Room.SIZE - 1);
             return colours[i >> 4] >> (i & 15) * 2 & 3;
         }
 
         private void setColour(int v, int colour) {
-            int i = Room.index(v) & Room.MASK;
+            int i = Room.index(v) & (Room.SIZE - 1);
             int shift = (i & 15) * 2;
             colours[i >> 4] = colours[i >> 4] & ~(3 << shift) | colour << shift;
             lowest = Math.min(lowest, i >> 4);
@@ -3300,8 +3317,8 @@ public final class SchemeHouse {
         static final int MOST_THINGS = 20000;
         static final int STACK = (1 << 14) - 1;
         static final int ROWS = (1 << 17) - 1;
-        static final int NAMES = (1 << 16) - 1;
-        static final int MOST_NAMES = 16000;
+        static final int NAMES = (1 << 15) - 1;
+        static final int MOST_NAMES = 8000;
 
         private final Room room;
         private final Tables tables;
