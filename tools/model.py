@@ -434,8 +434,7 @@ class Reader:
                     s.blanks(d)
                     if s.p>=s.n: raise Wrong(s.n)
                     if s.at(s.p)==41: s.p+=1; return first
-                    s.datum1(d,None,True)
-                    raise Wrong(-99)
+                    raise Wrong(s.p)
                 s.p=b
             v=s.datum1(d,None)
             s.tally+=1

@@ -2139,12 +2139,13 @@ public final class SchemeHouse {
             }
         }
 
-        /** What begins here. In #u8( ) there are NUMBERS alone. */
+        /** What begins here. In #u8( ) there are NUMBERS alone, behind a . and its DATUM there is nothing more. */
         private int sort() {
             int c = sign(at);
             int next = ahead(at + 1);
             if (c == '#' && next == ';') return SKIPPED;
             if (c == ')') return CLOSE;
+            if (frame(0) == LIST && frame(3) == CLOSING) wrong(at);
             if (frame(0) == BYTES) {
                 if (isDelimiter(c)) wrong(at);
                 return WORD;
@@ -2195,9 +2196,8 @@ public final class SchemeHouse {
             top--;
         }
 
-        /** A DATUM begins at this place: whether it can stand there. */
-        private void stands(int where) {
-            if (frame(0) == LIST && frame(3) == CLOSING) wrong(where);
+        /** A DATUM begins: an outermost one has LABELS of its own. */
+        private void newDatum() {
             if (depth == 0) for (int i = 0; i < 200; i += 2) labels[i & 255] = UNTOLD;
         }
 
@@ -2271,7 +2271,7 @@ public final class SchemeHouse {
         // TOKENS
 
         private void open(int kind) {
-            stands(at);
+            newDatum();
             if (kind == LIST) {
                 push(LIST, Room.NOTHING, Room.NOTHING);
                 tellLabels(BEGUN, top);
@@ -2288,7 +2288,7 @@ public final class SchemeHouse {
         }
 
         private void quote(String name, int signs) {
-            stands(at);
+            newDatum();
             int last = room.cons(Room.NIL, Room.NIL);
             int list = room.cons(room.symbol(name), last);
             tally += 2;
@@ -2339,7 +2339,7 @@ public final class SchemeHouse {
                 n = n * 10 + ahead(i) - '0';
                 i++;
             }
-            stands(from);
+            newDatum();
             int state = labels[(n * 2) & 255];
             int v = labels[(n * 2 + 1) & 255];
             if (ahead(i) == '=') {
@@ -2405,7 +2405,7 @@ public final class SchemeHouse {
                 v = room.intern(n);
                 tally += room.fresh;
             }
-            stands(from);
+            newDatum();
             made(v);
         }
 
@@ -2427,7 +2427,7 @@ public final class SchemeHouse {
             if (fromInput && ahead(from + 2) < 0) v = '?';
             if (n > 3) v = named(from + 2, n - 2);
             if (v < 0) wrong(from);
-            stands(from);
+            newDatum();
             made(Room.character(v));
         }
 
@@ -2456,7 +2456,7 @@ public final class SchemeHouse {
         private void string() {
             int from = at;
             int n = quoted('"', from);
-            stands(from);
+            newDatum();
             int v = Room.value(Room.STRING, room.make(1 + n));
             room.put(Room.index(v), n);
             for (int i = 0; i < n; i++) room.setItem(v, i, room.scratch[i & (Room.SCRATCH - 1)]);
@@ -2468,7 +2468,7 @@ public final class SchemeHouse {
             int from = at;
             int n = quoted('|', from);
             if (n > 40) wrong(from);
-            stands(from);
+            newDatum();
             for (int i = 0; i < n; i++) room.sign[i & 63] = room.scratch[i & (Room.SCRATCH - 1)];
             int v = room.intern(n);
             tally += room.fresh;
@@ -4548,6 +4548,7 @@ public final class SchemeHouse {
         static final int MOST_SIZE = 10000;
         static final int MOST_COMPARED = 10000;
         static final int FARTHEST = 300000;
+        static final int HUGE = 1 << 30;
 
         private final Room room;
         private final Numbers numbers;
@@ -4635,7 +4636,7 @@ public final class SchemeHouse {
 
         /** An exact integer from 0 on, as far as it can matter. */
         private int small(int k) {
-            return Room.kind(k) == Room.FIX ? k >> 1 : Integer.MAX_VALUE;
+            return Room.kind(k) == Room.FIX ? k >> 1 : HUGE;
         }
 
         // truth, symbols, ERROR OBJECTS

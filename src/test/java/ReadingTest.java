@@ -360,10 +360,10 @@ final class ReadingTest {
         h.due("(a . b #|c|# ;d\n )", 1, "#<error syntax>", "", 28);
         h.due("(write '(a .b))", 0, "#<unspecified>", "(a .b)", 17);
         h.due("(a .b)", 1, "#<error unbound>", "", 34);
-        h.due("(write '(a . b \"c)", -19, "", "", 0);
-        h.due("(a . b \"c", -10, "", "", 0);
+        h.due("(write '(a . b \"c)", -16, "", "", 0);
+        h.due("(a . b \"c", -8, "", "", 0);
         h.due("(write '(a . b #\\)", -16, "", "", 0);
-        h.due("(a . b #\\", -10, "", "", 0);
+        h.due("(a . b #\\", -8, "", "", 0);
         h.due("(write '#(a . b))", -13, "", "", 0);
         h.due("#(a . b)", -5, "", "", 0);
         h.due("(write '#())", 0, "#<unspecified>", "#()", 12);
