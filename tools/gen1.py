@@ -47,7 +47,7 @@ with open(out,'w') as f:
     for i in range(n):
         if i%150==0: f.write('NEW\n')
         if R.random()<.02:
-            f.write('I '+bytes(R.choice(b'abc (1 "x" #\\y\n\t;.\'`,@|#;\xff\x01')for _ in range(R.randrange(30))).hex()+'\n')
+            f.write('I '+bytes(R.choice(b'abc (1 "x" #\\y\n\n\r\r\t;.\'`,@|#;\xff\x01')for _ in range(R.randrange(30))).hex()+'\n')
         r=R.random()
         t=call()
         if r<.4: t='(write %s)'%t

@@ -449,6 +449,9 @@ def install(h):
         while h.inpos<len(h.input):
             c=inp(h.inpos); h.inpos+=1
             if c==10: break
+            if c==13:
+                if h.inpos<len(h.input) and inp(h.inpos)==10: h.inpos+=1
+                break
             l.append(c)
         return h.mkstr(l)
     reg('read-line','',rl)

@@ -5168,20 +5168,22 @@ public final class SchemeHouse {
                 case READ_CHAR:
                     reader.pass(1);
                     return c < 0 ? Room.END : Room.character(c);
-                case READ_LINE: {
-                    if (c < 0) return Room.END;
-                    int size = 0;
-                    while (size < TAPE && reader.peek(size) >= 0 && reader.peek(size) != 10) size++;
-                    int line = taken(size);
-                    reader.pass(1);
-                    return line;
-                }
+                case READ_LINE: return c < 0 ? Room.END : line();
                 default: {
                     int k = small(a);
                     if (k > MOST_SIZE) return range(a);
                     return k > 0 && c < 0 ? Room.END : taken(Math.min(k, reader.inputLeft()));
                 }
             }
+        }
+
+        /** A line ends, as in the report, with 10, 13, or 13 and 10. */
+        private int line() {
+            int size = 0;
+            while (size < TAPE && reader.peek(size) >= 0 && reader.peek(size) != 10 && reader.peek(size) != 13) size++;
+            int line = taken(size);
+            reader.pass(reader.peek(0) == 13 && reader.peek(1) == 10 ? 2 : 1);
+            return line;
         }
 
         private int taken(int n) {

@@ -89,6 +89,9 @@ final class PromisesTest {
         h.due("(guard (e ((error-object? e) (list (error-object-message e) (error-object-irritants e)))) (read))", 0,
             "(\"read\" ())");
         h.due("the INPUT is at its end", h.get().count(6), 0);
+        h.input("a\rb\r\n\n\rc");
+        h.due("(list (read-line) (read-line) (read-line) (read-line) (read-line) (read-line))", 0,
+            "(\"a\" \"b\" \"\" \"\" \"c\" #<eof>)");
         h.input("anew");
         h.due("input() of an empty tape", h.get().input(), 0);
         h.due("(read)", 0, "#<eof>");
