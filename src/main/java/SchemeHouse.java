@@ -176,7 +176,7 @@ public final class SchemeHouse {
 
         IS_PAIR("pair?", "x", 6), IS_NULL("null?", "x", 6), IS_LIST("list?", "x", 6), CONS("cons", "xx", 6),
         SET_CAR("set-car!", "px", 6), SET_CDR("set-cdr!", "px", 6), MAKE_LIST("make-list", "k[x", 6),
-        LIST("list", "x*", 6), LENGTH("length", "l", 6), APPEND("append", "x*", 6), REVERSE("reverse", "l", 6),
+        LIST("list", "x*", 6), LENGTH("length", "l", 6), APPEND("append", "xx*", 6), REVERSE("reverse", "l", 6),
         LIST_TAIL("list-tail", "xk", 6), LIST_REF("list-ref", "xk", 6), LIST_SET("list-set!", "xkx", 6),
         MEMQ("memq", "xl", 6), MEMV("memv", "xl", 6), ASSQ("assq", "xl", 6), ASSV("assv", "xl", 6),
         LIST_COPY("list-copy", "x", 6), ALL_PAIRS("%all-pairs?", "l", 6), CARS("%cars", "l", 6),
@@ -259,6 +259,10 @@ public final class SchemeHouse {
 
         static final int NOTHING = 0, NIL = 64, FALSE = 128, TRUE = 192, UNSPECIFIED = 256, END = 320;
         static final int UNASSIGNED = 384, TOO_BIG = 448, FIRST_CHAR = 256 << 6, FIRST_CORE = 512 << 6;
+
+        // marks of IDENTIFIERS (an ALIAS is: of what, the MACRO's environment, its SYMBOL, marks; a SYMBOL: the next in
+        // its bucket, bindings, how many signs, marks, signs): the number of a variable, an ALIAS, a MACRO
+        static final int VARIABLE = 3, ALIASED = 4, LITERAL = 5, SIGNS = 6;
 
         // the first word of a PROC
         static final int PRIMITIVE = 0, CLOSURE = 1, CONTINUATION = 2, PARAMETER = 3, CASES = 4, MAKER = 5, ASKER = 6;
@@ -599,10 +603,9 @@ public final class SchemeHouse {
             return true;
         }
 
+        /** The SYMBOL of an ALIAS; others are themselves. */
         int symbolOf(int identifier) {
-            int v = identifier;
-            for (int n = 0; n < SIZE && (v & 63) == ALIAS << 1; n++) v = words[v >>> 6 & (words.length - 1)];
-            return v;
+            return (identifier & 63) == ALIAS << 1 ? words[(identifier >>> 6) + 2 & (words.length - 1)] : identifier;
         }
 
         int symbolSize(int symbol) {
@@ -610,7 +613,7 @@ public final class SchemeHouse {
         }
 
         int symbolSign(int symbol, int i) {
-            return words[(symbol >>> 6) + 3 + i & (words.length - 1)];
+            return words[(symbol >>> 6) + SIGNS + i & (words.length - 1)];
         }
 
         /** Whether v is an IDENTIFIER whose SYMBOL has this name. */
@@ -633,11 +636,14 @@ public final class SchemeHouse {
                 if (hasSigns(i, n)) return value(SYMBOL, i);
                 i = at(i);
             }
-            i = make(3 + n);
+            i = make(SIGNS + n);
             put(i, words[bucket]);
             put(i + 1, 0);
             put(i + 2, n);
-            for (int j = 0; j < n; j++) put(i + 3 + j, sign[j & 63]);
+            put(i + VARIABLE, 0);
+            put(i + ALIASED, 0);
+            put(i + LITERAL, 0);
+            for (int j = 0; j < n; j++) put(i + SIGNS + j, sign[j & 63]);
             words[bucket] = i;
             fresh = 1 + n;
             return value(SYMBOL, i);
@@ -645,7 +651,7 @@ public final class SchemeHouse {
 
         private boolean hasSigns(int symbol, int n) {
             if (words[symbol + 2 & (words.length - 1)] != n) return false;
-            for (int j = 0; j < n; j++) if (words[symbol + 3 + j & (words.length - 1)] != sign[j & 63]) return false;
+            for (int j = 0; j < n; j++) if (words[symbol + SIGNS + j & (words.length - 1)] != sign[j & 63]) return false;
             return true;
         }
 
@@ -2371,8 +2377,8 @@ public final class SchemeHouse {
         private int word(int from) {
             boolean character = ahead(from) == '#' && ahead(from + 1) == '\\';
             if (character && from + 2 >= size) wrong(size);
-            if (character) sign(from + 2);
-            at = tokenEnd(character ? from + 3 : from);
+            boolean signed = character && sign(from + 2) >= 32;
+            at = tokenEnd(signed ? from + 3 : character ? from + 2 : from);
             for (int i = from; i < at; i++) numerals.setSign(i - from, sign(i));
             return at - from;
         }
@@ -3309,16 +3315,20 @@ public final class SchemeHouse {
     }
 
     /**
-     * MACROS: (environment, LITERALS, rules, own ELLIPSIS). Nested DATA are gone through by a stack of frames, eight
+     * MACROS: (environment, LITERALS, rules, own ELLIPSIS). Nested DATA are gone through by a stack of frames, ten
      * words each: what is gone through is a list (an object and -1) or a vector (an object and an index).
      */
     private static final class Rules {
         static final int SEQUENCE = 0, ROW = 1, BEGIN = 2;
+        static final int BAD = -1, OPENED = -2;
         static final int MOST_THINGS = 20000;
         static final int STACK = (1 << 14) - 1;
         static final int ROWS = (1 << 17) - 1;
-        static final int NAMES = (1 << 15) - 1;
-        static final int MOST_NAMES = 8000;
+        static final int NAMES = (1 << 17) - 1;
+        static final int ROUNDS = (1 << 16) - 1;
+        static final int KNOWN = (1 << 15) - 1;
+        static final int FOUND = (1 << 15) - 1;
+        static final long EVER = 1L << 60;
 
         private final Room room;
         private final Tables tables;
@@ -3326,23 +3336,25 @@ public final class SchemeHouse {
         private final int[] walk = new int[STACK + 1];
         private final int[] rows = new int[ROWS + 1];
         private final int[] variables = new int[NAMES + 1];
-        private final int[] aliases = new int[NAMES + 1];
-        private final int[] rounds = new int[NAMES + 1];
+        private final int[] rounds = new int[ROUNDS + 1];
+        private final int[] known = new int[KNOWN + 1];
+        private final int[] found = new int[FOUND + 1];
         private final int dots;
         private final int underscore;
         private int top;
         private int walked;
         private int names;
-        private int aliased;
         private int rowTop;
         private int things;
         private int within;
         private int use;
         private int environment;
         private int macro;
-        private int home;
         private boolean quoting;
         private int saved;
+        private int stamp;
+        private int base;
+        private int mark;
 
         Rules(Room room, Tables tables) {
             this.room = room;
@@ -3353,20 +3365,24 @@ public final class SchemeHouse {
 
         // the parts of a MACRO at work
 
-        private boolean isLiteral(int id) {
+        /** The MACRO is at work: its LITERALS are marked. */
+        private void workWith(int macro) {
+            this.macro = macro;
             int rest = room.at(Room.index(macro) + 1);
-            for (int n = 0; n < Room.SIZE && Room.isPair(rest) && room.car(rest) != id; n++) rest = room.cdr(rest);
-            return Room.isPair(rest);
+            for (int n = 0; n < Room.SIZE && Room.isPair(rest); rest = room.cdr(rest), n++) {
+                room.put(Room.index(room.car(rest)) + Room.LITERAL, macro);
+            }
+        }
+
+        private boolean isLiteral(int id) {
+            return room.at(Room.index(id) + Room.LITERAL) == macro;
         }
 
         private boolean isEllipsis(int v) {
             int kind = Room.kind(v);
             if (kind != Room.SYMBOL && kind != Room.ALIAS) return false;
             int own = room.at(Room.index(macro) + 3);
-            if (own == Room.NIL ? room.symbolOf(v) != dots : v != own) return false;
-            int rest = room.at(Room.index(macro) + 1);
-            for (int n = 0; n < Room.SIZE && Room.isPair(rest) && room.car(rest) != v; n++) rest = room.cdr(rest);
-            return rest == Room.NIL;
+            return (own == Room.NIL ? room.symbolOf(v) == dots : v == own) && !isLiteral(v);
         }
 
         private boolean isEllipsisAt(int o, int i) {
@@ -3411,7 +3427,7 @@ public final class SchemeHouse {
             int count = 0;
             walked = 0;
             walkInto(datum, -1, 0, 0);
-            for (int turn = 0; turn < Room.SIZE * 1024 && walked > 0; turn++) {
+            for (long turn = 0; turn < EVER && walked > 0; turn++) {
                 walked--;
                 int o = walking(0);
                 int i = walking(1);
@@ -3445,7 +3461,7 @@ public final class SchemeHouse {
                 rest = room.cdr(rest);
             }
             if (!Room.isPair(rest) || !areIdentifiers(room.car(rest))) room.wrong(told);
-            macro = Room.value(Room.MACRO, room.record(4, home, room.car(rest), room.cdr(rest), own));
+            workWith(Room.value(Room.MACRO, room.record(4, home, room.car(rest), room.cdr(rest), own)));
             for (int r = room.cdr(rest), turn = 0; turn < Room.SIZE && Room.isPair(r); r = room.cdr(r), turn++) {
                 int rule = room.car(r);
                 if (!room.isList(rule) || room.pairs(rule) != 2) room.wrong(told);
@@ -3477,7 +3493,7 @@ public final class SchemeHouse {
             names = 0;
             walked = 0;
             walkInto(list, -1, 0, 0);
-            for (int turn = 0; turn < Room.SIZE && walked > 0; turn++) {
+            for (long turn = 0; turn < EVER && walked > 0; turn++) {
                 walked--;
                 int o = walking(0);
                 int i = walking(1);
@@ -3514,9 +3530,12 @@ public final class SchemeHouse {
             return true;
         }
 
-        /** A variable: the IDENTIFIER, the ELLIPSES that it has (left), what it has, the row that is open. */
+        /**
+         * A variable: the IDENTIFIER (which has the variable's number as a mark), the ELLIPSES that it has (left), what
+         * it has, the row that is open.
+         */
         private void addVariable(int id, int depth) {
-            if (names >= MOST_NAMES) return;
+            room.put(Room.index(id) + Room.VARIABLE, names);
             variables[(names * 4) & NAMES] = id;
             variables[(names * 4 + 1) & NAMES] = depth;
             variables[(names * 4 + 2) & NAMES] = 0;
@@ -3525,9 +3544,8 @@ public final class SchemeHouse {
         }
 
         private int variable(int id) {
-            int j = names - 1;
-            while (j >= 0 && variables[(j * 4) & NAMES] != id) j--;
-            return j;
+            int j = room.at(Room.index(id) + Room.VARIABLE);
+            return j >= 0 && j < names && variables[(j * 4) & NAMES] == id ? j : -1;
         }
 
         private int variable(int j, int word) {
@@ -3539,18 +3557,48 @@ public final class SchemeHouse {
         }
 
         private boolean isTemplate(int template) {
-            walked = 0;
-            if (!isPiece(template, 0, 0)) return false;
-            for (int turn = 0; turn < Room.SIZE && walked > 0; turn++) {
-                walked--;
-                int o = walking(0);
-                int i = walking(1);
-                int depth = walking(2);
-                int escaped = walking(3);
-                if (!hasPart(o, i)) {
-                    if (i < 0 && !isPiece(o, depth, escaped)) return false;
-                    continue;
-                }
+            top = 0;
+            boolean right = piece(template, 0, 0, 0) != BAD;
+            for (long turn = 0; turn < EVER && right && top > 0; turn++) right = lookOn();
+            return right;
+        }
+
+        /**
+         * A piece of a template, under so many ELLIPSES, the last few of them right behind it: the most ELLIPSES that a
+         * variable in it has; OPENED, if a frame was begun for it; BAD, if it isn't as it must be.
+         */
+        private int piece(int t, int depth, int escaped, int own) {
+            int piece = t;
+            int plain = escaped;
+            if (plain == 0 && Room.isPair(piece) && isEllipsis(room.car(piece))) {
+                int second = room.cdr(piece);
+                if (!Room.isPair(second) || room.cdr(second) != Room.NIL) return BAD;
+                piece = room.car(second);
+                plain = 1;
+            }
+            int kind = Room.kind(piece);
+            if (kind == Room.PAIR || kind == Room.VECTOR) {
+                hold(piece, kind == Room.PAIR ? -1 : 0, depth, plain);
+                setFrame(5, 0);
+                setFrame(6, own);
+                return OPENED;
+            }
+            int most = 0;
+            if (Room.isIdentifier(piece)) {
+                int j = variable(piece);
+                if (j >= 0) most = variable(j, 1);
+                else if (plain == 0 && isEllipsis(piece)) return BAD;
+            }
+            return most > depth || own > 0 && most < depth ? BAD : most;
+        }
+
+        /** A step through what is open: its next part, what stands behind its point, or its end. */
+        private boolean lookOn() {
+            int o = frame(1);
+            int i = frame(2);
+            int depth = frame(3);
+            int escaped = frame(4);
+            if (hasPart(o, i)) {
                 int part = part(o, i);
                 o = behind(o, i);
                 i = next(i);
@@ -3559,46 +3607,25 @@ public final class SchemeHouse {
                     o = behind(o, i);
                     i = next(i);
                 }
-                walkInto(o, i, depth, escaped);
-                if (rows > 0 && mostEllipses(part) - depth < rows) return false;
-                if (!isPiece(part, depth + rows, escaped)) return false;
+                setFrame(1, o);
+                setFrame(2, i);
+                return isSeen(piece(part, depth + rows, escaped, rows));
             }
-            return true;
+            if (i < 0 && o != Room.NIL) {
+                setFrame(1, Room.NIL);
+                return isSeen(piece(o, depth, escaped, 0));
+            }
+            int most = frame(5);
+            if (frame(6) > 0 && most < depth) return false;
+            top--;
+            return isSeen(most);
         }
 
-        private boolean isPiece(int t, int depth, int escaped) {
-            int piece = t;
-            int plain = escaped;
-            if (plain == 0 && Room.isPair(piece) && isEllipsis(room.car(piece))) {
-                int second = room.cdr(piece);
-                if (!Room.isPair(second) || room.cdr(second) != Room.NIL) return false;
-                piece = room.car(second);
-                plain = 1;
-            }
-            int kind = Room.kind(piece);
-            if (kind == Room.PAIR) {
-                walkInto(piece, -1, depth, plain);
-            } else if (kind == Room.VECTOR) {
-                walkInto(piece, 0, depth, plain);
-            } else if (Room.isIdentifier(piece)) {
-                int j = variable(piece);
-                if (j >= 0) return variable(j, 1) <= depth;
-                return plain == 1 || !isEllipsis(piece);
-            }
-            return true;
-        }
-
-        /** The most ELLIPSES that a variable in it has. */
-        private int mostEllipses(int part) {
-            int most = 0;
-            int floor = walked;
-            walkInto(part, -1, 0, 0);
-            for (int turn = 0; turn < Room.SIZE && walked > floor; turn++) {
-                int id = nextIdentifier();
-                int j = id == Room.NOTHING ? -1 : variable(id);
-                if (j >= 0) most = Math.max(most, variable(j, 1));
-            }
-            return most;
+        /** Whether a piece is right; what it has counts in what is open around it. */
+        private boolean isSeen(int most) {
+            if (most == OPENED || top == 0) return true;
+            setFrame(5, Math.max(frame(5), most));
+            return most != BAD;
         }
 
         /** One step of a walk through a datum: the IDENTIFIER that was come to, or NOTHING. */
@@ -3626,8 +3653,7 @@ public final class SchemeHouse {
 
         /** What the use of a MACRO becomes. */
         int used(int macro, int use, int environment) {
-            this.macro = macro;
-            home = room.at(Room.index(macro));
+            workWith(macro);
             this.use = use;
             this.environment = environment;
             int rule = room.at(Room.index(macro) + 2);
@@ -3635,24 +3661,57 @@ public final class SchemeHouse {
             for (int tried = 0; tried < Room.SIZE && Room.isPair(rule); rule = room.cdr(rule), tried++) {
                 room.spend(1);
                 int both = room.car(rule);
-                top = 0;
-                names = 0;
-                things = 0;
-                within = 0;
-                rowTop = 1;
-                hold(room.cdr(room.car(both)), -1, room.cdr(use), -1);
-                boolean fits = true;
-                for (int turn = 0; turn < Room.SIZE && top > 0 && fits; turn++) {
-                    if (frame(0) == BEGIN) fits = beginRow();
-                    else fits = frame(0) == ROW ? goOver() : goOn();
-                }
-                if (fits) {
-                    aliased = 0;
-                    return build(room.car(room.cdr(both)), false);
-                }
+                if (isMatched(room.cdr(room.car(both)))) return build(room.car(room.cdr(both)), false);
             }
             room.wrong(use);
             return Room.NIL;
+        }
+
+        /** Whether the use fits; what the variables get stands in them then. */
+        private boolean isMatched(int pattern) {
+            top = 0;
+            names = 0;
+            things = 0;
+            within = 0;
+            rowTop = 1;
+            forgetParts();
+            hold(pattern, -1, room.cdr(use), -1);
+            boolean fits = true;
+            for (long turn = 0; turn < EVER && top > 0 && fits; turn++) {
+                if (frame(0) == BEGIN) fits = beginRow();
+                else fits = frame(0) == ROW ? goOver() : goOn();
+            }
+            return fits;
+        }
+
+        // parts under ELLIPSES that were walked through already: the part, when, two numbers. All that was known before
+        // the base doesn't count.
+
+        private void forgetParts() {
+            stamp++;
+            base = stamp;
+            found[0] = 0;
+        }
+
+        private static int slot(int part) {
+            return (part * 0x9e3779b1 >>> 19) * 4 & KNOWN;
+        }
+
+        private boolean isKnown(int part) {
+            int slot = slot(part);
+            return known[slot] == part && known[(slot + 1) & KNOWN] >= base;
+        }
+
+        private void know(int part, int a, int b) {
+            int slot = slot(part);
+            known[slot] = part;
+            known[(slot + 1) & KNOWN] = stamp;
+            known[(slot + 2) & KNOWN] = a;
+            known[(slot + 3) & KNOWN] = b;
+        }
+
+        private int knows(int part, int word) {
+            return known[(slot(part) + word) & KNOWN];
         }
 
         private int frame(int word) {
@@ -3715,7 +3774,7 @@ public final class SchemeHouse {
             if (!Room.isIdentifier(p)) return room.eqv(p, x);
             if (isLiteral(p)) {
                 room.spend(1);
-                return Room.isIdentifier(x) && tables.same(x, environment, p, home);
+                return Room.isIdentifier(x) && tables.same(x, environment, p, room.at(Room.index(macro)));
             }
             if (room.symbolOf(p) == underscore) return true;
             get(p, x);
@@ -3775,8 +3834,9 @@ public final class SchemeHouse {
             int there = thingI < 0 ? room.pairs(thingO) : room.size(thingO) - thingI;
             if (there < behind) return false;
             room.spend(there - behind);
-            int from = firstOf(part);
-            int to = from + lengthOf(part);
+            if (within == 0 || !isKnown(part)) findSpan(part);
+            int from = knows(part, 2);
+            int to = knows(part, 3);
             for (int j = from; j < to; j++) {
                 countThing();
                 int around = variable(j, 3);
@@ -3793,32 +3853,23 @@ public final class SchemeHouse {
             return true;
         }
 
-        /** The first variable of a part under an ELLIPSIS; an outermost one's variables are made here. */
-        private int firstOf(int part) {
-            int first = -1;
-            int old = names;
+        /** From which variable to which a part under an ELLIPSIS has them; an outermost one's are made here. */
+        private void findSpan(int part) {
+            int from = within == 0 ? names : -1;
+            int n = 0;
             walked = 0;
             walkInto(part, -1, 1, 0);
-            for (int turn = 0; turn < Room.SIZE && walked > 0; turn++) {
+            for (long turn = 0; turn < EVER && walked > 0; turn++) {
                 walked--;
                 int depth = walking(2);
                 int id = nextVariable(depth);
                 if (id == Room.NOTHING) continue;
                 if (within == 0) addVariable(id, depth);
-                else if (first < 0) first = variable(id);
+                else if (from < 0) from = variable(id);
+                n++;
             }
-            return within == 0 ? old : Math.max(first, 0);
-        }
-
-        private int lengthOf(int part) {
-            int length = 0;
-            walked = 0;
-            walkInto(part, -1, 1, 0);
-            for (int turn = 0; turn < Room.SIZE && walked > 0; turn++) {
-                walked--;
-                if (nextVariable(walking(2)) != Room.NOTHING) length++;
-            }
-            return length;
+            from = Math.max(from, 0);
+            know(part, from, from + n);
         }
 
         /** One step of a walk through a pattern, with the ELLIPSES that what is there is under. */
@@ -3866,8 +3917,10 @@ public final class SchemeHouse {
             this.quoting = quoting;
             top = 0;
             saved = 0;
+            mark = room.top;
+            forgetParts();
             int result = begun(template, quoting ? 1 : 0);
-            for (int turn = 0; turn < Room.SIZE && top > 0; turn++) {
+            for (long turn = 0; turn < EVER && top > 0; turn++) {
                 int made = frame(0) == ROW ? goRound() : grow();
                 if (top == 0) result = made;
                 else if (made != Room.NOTHING) deliver(made);
@@ -3896,15 +3949,23 @@ public final class SchemeHouse {
             if (quoting) return room.symbolOf(t);
             int j = variable(t);
             if (j >= 0) return variable(j, 2);
-            for (int i = 0; i < aliased; i++) if (aliases[(i * 2) & NAMES] == t) return aliases[(i * 2 + 1) & NAMES];
+            int alias = room.at(Room.index(t) + Room.ALIASED);
+            boolean own = Room.kind(alias) == Room.ALIAS && Room.index(alias) >= mark;
+            return own && room.at(Room.index(alias)) == t ? alias : newAlias(t);
+        }
+
+        /** An ALIAS; the IDENTIFIER that it is of has it as a mark, which holds as long as this use. */
+        private int newAlias(int id) {
             room.spend(1);
-            int i = room.make(2);
-            room.put(i, t);
-            room.put(i + 1, home);
+            int i = room.make(6);
+            room.put(i, id);
+            room.put(i + 1, room.at(Room.index(macro)));
+            room.put(i + 2, room.symbolOf(id));
+            room.put(i + Room.VARIABLE, 0);
+            room.put(i + Room.ALIASED, 0);
+            room.put(i + Room.LITERAL, 0);
             int alias = Room.value(Room.ALIAS, i);
-            aliases[(aliased * 2) & NAMES] = t;
-            aliases[(aliased * 2 + 1) & NAMES] = alias;
-            aliased = Math.min(aliased + 1, MOST_NAMES);
+            room.put(Room.index(id) + Room.ALIASED, alias);
             return alias;
         }
 
@@ -3975,32 +4036,43 @@ public final class SchemeHouse {
         private void beginRound(int part, int rows) {
             int from = saved;
             int count = -1;
-            walked = 0;
-            walkInto(part, -1, 0, 0);
-            for (int turn = 0; turn < Room.SIZE && walked > 0; turn++) {
-                int id = nextIdentifier();
-                int j = id == Room.NOTHING ? -1 : variable(id);
-                if (j < 0 || variable(j, 1) == 0 || isSaved(j, from)) continue;
+            if (!isKnown(part)) findVariables(part);
+            int last = knows(part, 3);
+            for (int k = knows(part, 2); k < last; k++) {
+                int j = found[k & FOUND];
+                if (variable(j, 1) == 0) continue;
                 int row = variable(j, 2);
                 if (count >= 0 && count != row(row, 2)) room.wrong(use);
                 count = row(row, 2);
-                rounds[(saved * 3) & NAMES] = j;
-                rounds[(saved * 3 + 1) & NAMES] = row;
-                rounds[(saved * 3 + 2) & NAMES] = row(row, 0);
-                saved++;
-            }
-            for (int s = from; s < saved; s++) {
-                int j = rounds[(s * 3) & NAMES];
+                rounds[(saved * 3) & ROUNDS] = j;
+                rounds[(saved * 3 + 1) & ROUNDS] = row;
+                rounds[(saved * 3 + 2) & ROUNDS] = row(row, 0);
                 setVariable(j, 1, variable(j, 1) - 1);
+                saved++;
             }
             hold(part, rows, from, saved);
             setFrame(0, ROW);
             setFrame(5, Math.max(0, count));
         }
 
-        private boolean isSaved(int j, int from) {
-            for (int s = from; s < saved; s++) if (rounds[(s * 3) & NAMES] == j) return true;
-            return false;
+        /** The variables in a part, each once, go behind those found in other parts. */
+        private void findVariables(int part) {
+            if (found[0] > FOUND - names - 1) forgetParts();
+            int from = found[0] + 1;
+            int to = from;
+            stamp++;
+            walked = 0;
+            walkInto(part, -1, 0, 0);
+            for (long turn = 0; turn < EVER && walked > 0; turn++) {
+                int id = nextIdentifier();
+                int j = id == Room.NOTHING ? -1 : variable(id);
+                if (j < 0 || variable(j, 3) == stamp) continue;
+                setVariable(j, 3, stamp);
+                found[to & FOUND] = j;
+                to++;
+            }
+            found[0] = to - 1;
+            know(part, from, to);
         }
 
         /** One time more round a row, or through with it. */
@@ -4009,14 +4081,14 @@ public final class SchemeHouse {
             int to = frame(4);
             boolean through = frame(5) == 0;
             for (int s = from; s < to; s++) {
-                int j = rounds[(s * 3) & NAMES];
-                int item = rounds[(s * 3 + 2) & NAMES];
+                int j = rounds[(s * 3) & ROUNDS];
+                int item = rounds[(s * 3 + 2) & ROUNDS];
                 if (through) {
                     setVariable(j, 1, variable(j, 1) + 1);
-                    setVariable(j, 2, rounds[(s * 3 + 1) & NAMES]);
+                    setVariable(j, 2, rounds[(s * 3 + 1) & ROUNDS]);
                 } else {
                     setVariable(j, 2, row(item, 0));
-                    rounds[(s * 3 + 2) & NAMES] = row(item, 1);
+                    rounds[(s * 3 + 2) & ROUNDS] = row(item, 1);
                 }
             }
             if (through) {
@@ -4823,7 +4895,7 @@ public final class SchemeHouse {
 
         private int appended(int n) {
             for (int i = 1; i < n; i++) if (!room.isList(room.arg(i))) return type(room.arg(i));
-            int all = n == 0 ? Room.NIL : room.arg(n);
+            int all = room.arg(n);
             for (int i = n - 1; i > 0; i--) {
                 int copy = copied(room.arg(i));
                 if (copy == Room.NIL) continue;
