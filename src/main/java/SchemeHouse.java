@@ -4105,7 +4105,8 @@ public final class SchemeHouse {
 
     /**
      * Forms to codes, a form each step. A code is an index: what it is, then its parts. What is still to be expanded
-     * waits in frames: parts in a row, a BODY's definitions, a BODY that is looked at, a let-syntax.
+     * waits in frames: parts in a row, a BODY's definitions, a BODY that is looked at, a let-syntax. Codes wait, too,
+     * until the code that they are parts of is made: so WORK pays for all that is made.
      */
     private static final class Expander {
         static final int QUOTE = 0, IF = 1, SET = 2, LAMBDA = 3, BEGIN = 4, DEFINE = 5, DEFINE_SYNTAX = 6;
@@ -4121,6 +4122,7 @@ public final class SchemeHouse {
         static final int DEEPEST = 250;
         static final int MOST_DATA = 20000;
         static final int INDEX = (1 << 14) - 1;
+        static final int CODES = (1 << 16) - 1;
 
         int state;
         int form;
@@ -4130,21 +4132,20 @@ public final class SchemeHouse {
         int act;
         int symbol;
         int message;
-        final int root;
         private final Room room;
         private final Tables tables;
         private final Rules rules;
         private final int[] frames = new int[INDEX + 1];
+        private final int[] codes = new int[CODES + 1];
         private int top;
+        private int made;
         private int where;
         private int depth;
-        private int target;
 
         Expander(Room room, Tables tables, Rules rules) {
             this.room = room;
             this.tables = tables;
             this.rules = rules;
-            root = room.record(2, 0, 0, 0, 0);
             core("quote", QUOTE);
             core("if", IF);
             core("set!", SET);
@@ -4170,14 +4171,26 @@ public final class SchemeHouse {
             environment = table;
             where = OUTER;
             depth = 0;
-            target = root;
             top = 0;
+            made = 0;
             message = Room.NOTHING;
             act = NO_CORE;
             state = SEE;
         }
 
-        // frames: sixteen words each, the sort first
+        /** The code of what was expanded. */
+        int result() {
+            return codes[0];
+        }
+
+        private void give(int code) {
+            codes[made & CODES] = code;
+            made++;
+        }
+
+        // frames, sixteen words each: the sort; the list that is left, where its forms stand and how deep; the code that
+        // they are parts of if it is made (4), the form it is of (5), lists behind (6), what it is (13), the first of
+        // its parts' codes (14), whether a BODY's lambda is let-syntax's (15)
 
         private int frame(int word) {
             return frames[(top * 16 - 16 + word) & INDEX];
@@ -4187,13 +4200,22 @@ public final class SchemeHouse {
             frames[(top * 16 - 16 + word) & INDEX] = to;
         }
 
-        private void push(int sort, int list, int environment, int depth, int target) {
+        private void push(int sort, int list, int environment, int depth, int code) {
             top++;
             setFrame(0, sort);
             setFrame(1, list);
             setFrame(2, environment);
             setFrame(3, depth);
-            setFrame(4, target);
+            setFrame(4, code);
+            setFrame(5, form);
+            setFrame(6, 0);
+            setFrame(14, made);
+        }
+
+        /** The form's parts in a list are to be expanded, each one deeper. */
+        private void parts(int what, int list, int code) {
+            push(PARTS, list, environment, depth + 1, code);
+            setFrame(13, what);
         }
 
         /** What waits on top is gone on with. */
@@ -4210,18 +4232,77 @@ public final class SchemeHouse {
         }
 
         private void nextPart() {
+            if (frame(0) == DEFINITIONS && frame(1) == Room.NIL) {
+                setFrame(0, PARTS);
+                setFrame(1, frame(8));
+            }
             boolean definition = frame(0) == DEFINITIONS;
+            if (!definition) listBehind();
             int list = frame(1);
-            int rest = room.cdr(list);
+            if (list == Room.NIL) {
+                finish();
+                return;
+            }
             environment = frame(2);
             depth = frame(3);
-            target = frame(4);
-            setFrame(1, rest);
-            setFrame(4, target + 1);
-            if (rest == Room.NIL) top--;
+            setFrame(1, room.cdr(list));
             form = room.car(list);
             where = EXPRESSION;
             state = definition ? VALUE : SEE;
+        }
+
+        /** A list that is through is left for those behind it. */
+        private void listBehind() {
+            int rest = frame(1);
+            int behind = frame(6);
+            for (int n = 0; n < Room.SIZE && rest == Room.NIL && behind != 0; n++) {
+                rest = room.at(behind);
+                behind = room.at(behind + 1);
+            }
+            setFrame(1, rest);
+            setFrame(6, behind);
+        }
+
+        /** All parts are expanded: their codes become one. */
+        private void finish() {
+            int first = frame(14);
+            int n = made - first;
+            int code = frame(4);
+            switch (frame(13)) {
+                case IF_CODE:
+                    for (int i = 0; i < n && i < 3; i++) room.put(code + 1 + i, codes[(first + i) & CODES]);
+                    break;
+                case SET_LOCAL_CODE:
+                    room.put(code + 2, codes[first & CODES]);
+                    break;
+                case APPLICATION_CODE:
+                    code = room.make(2 + n);
+                    room.put(code, APPLICATION_CODE);
+                    room.put(code + 1, n);
+                    for (int i = 0; i < n; i++) room.put(code + 2 + i, codes[(first + i) & CODES]);
+                    break;
+                case LAMBDA_CODE:
+                    int formals = room.at(code + 1) + room.at(code + 2);
+                    room.put(code + 4, sequence(formals, frame(9), first, n));
+                    if (frame(15) == 1) code = room.record(3, APPLICATION_CODE, 1, code, 0);
+                    break;
+                default: code = sequence(0, 0, first, n);
+            }
+            made = first;
+            top--;
+            give(code);
+        }
+
+        /** Codes one behind the other: one alone is itself. */
+        private int sequence(int base, int definitions, int first, int n) {
+            if (n == 1) return codes[first & CODES];
+            int code = room.make(4 + n);
+            room.put(code, SEQUENCE_CODE);
+            room.put(code + 1, base);
+            room.put(code + 2, definitions);
+            room.put(code + 3, n);
+            for (int i = 0; i < n; i++) room.put(code + 4 + i, codes[(first + i) & CODES]);
+            return code;
         }
 
         /** The form there is seen: what it is, where it stands. */
@@ -4254,7 +4335,7 @@ public final class SchemeHouse {
                 if (!room.isList(form)) room.wrong(form);
                 if (where == BODY) inBody(word);
                 else if (where == OUTER && (definition || word == IMPORT || word == DEFINE_LIBRARY)) outermost(word);
-                else if (word == NO_CORE) application();
+                else if (word == NO_CORE) parts(APPLICATION_CODE, form, 0);
                 else core(word);
             }
         }
@@ -4280,10 +4361,8 @@ public final class SchemeHouse {
             int meaning = tables.meaning(form, environment);
             if (Room.kind(meaning) == Room.MACRO || Room.isCore(meaning)) room.wrong(form);
             if (meaning == Room.NOTHING) meaning = tables.newPlace(tables.lastSymbol, tables.lastTable);
-            int code;
-            if (Room.kind(meaning) == Room.SLOT) code = room.record(3, LOCAL_CODE, place(meaning), name, 0);
-            else code = room.record(3, GLOBAL_CODE, Room.index(meaning), name, 0);
-            room.put(target, code);
+            if (Room.kind(meaning) == Room.SLOT) give(room.record(3, LOCAL_CODE, place(meaning), name, 0));
+            else give(room.record(3, GLOBAL_CODE, Room.index(meaning), name, 0));
         }
 
         /** How many frames up a SLOT is, and where in that one. */
@@ -4300,17 +4379,8 @@ public final class SchemeHouse {
         }
 
         void copied(int datum) {
-            room.put(target, room.record(2, CONSTANT_CODE, datum, 0, 0));
+            give(room.record(2, CONSTANT_CODE, datum, 0, 0));
             state = TAKE;
-        }
-
-        private void application() {
-            int n = room.pairs(form);
-            int code = room.make(2 + n);
-            room.put(code, APPLICATION_CODE);
-            room.put(code + 1, n);
-            room.put(target, code);
-            push(PARTS, form, environment, depth + 1, code + 2);
         }
 
         private void core(int word) {
@@ -4322,9 +4392,7 @@ public final class SchemeHouse {
                     break;
                 case IF:
                     if (parts != 3 && parts != 4) room.wrong(form);
-                    int code = room.record(4, IF_CODE, 0, 0, 0);
-                    room.put(target, code);
-                    push(PARTS, room.cdr(form), environment, depth + 1, code + 1);
+                    parts(IF_CODE, room.cdr(form), room.record(4, IF_CODE, 0, 0, 0));
                     break;
                 case SET:
                     if (parts != 3 || !Room.isIdentifier(second())) room.wrong(form);
@@ -4333,19 +4401,18 @@ public final class SchemeHouse {
                 case LAMBDA:
                     if (parts < 3) room.wrong(form);
                     room.spend(2);
-                    lambda(second(), room.cdr(room.cdr(form)));
+                    lambda(second(), room.cdr(room.cdr(form)), false);
                     break;
                 case BEGIN:
                     if (parts < 2) room.wrong(form);
-                    sequence(room.cdr(form), parts - 1);
+                    parts(SEQUENCE_CODE, room.cdr(form), 0);
                     break;
                 case LET_SYNTAX:
                 case LETREC_SYNTAX:
                     if (parts < 3 || !room.isList(second())) room.wrong(form);
                     int scope = room.record(3, environment, 0, tables.levelOf(environment), 0);
-                    push(LETS, second(), word == LET_SYNTAX ? environment : scope, depth, target);
-                    setFrame(5, form);
-                    setFrame(6, scope);
+                    push(LETS, second(), word == LET_SYNTAX ? environment : scope, depth, 0);
+                    setFrame(10, scope);
                     break;
                 case SYNTAX_ERROR:
                     if (parts >= 2 && Room.kind(second()) == Room.STRING) message = second();
@@ -4363,36 +4430,15 @@ public final class SchemeHouse {
             boolean local = Room.kind(meaning) == Room.SLOT;
             int code = room.record(4, local ? SET_LOCAL_CODE : SET_GLOBAL_CODE,
                 local ? place(meaning) : Room.index(meaning), 0, room.symbolOf(id));
-            room.put(target, code);
-            push(PARTS, room.cdr(room.cdr(form)), environment, depth + 1, code + 2);
-        }
-
-        private void sequence(int list, int n) {
-            int to = target;
-            if (n > 1) {
-                int code = sequenceCode(0, 0, n);
-                room.put(target, code);
-                to = code + 4;
-            }
-            push(PARTS, list, environment, depth + 1, to);
-        }
-
-        private int sequenceCode(int base, int definitions, int n) {
-            int code = room.make(4 + n);
-            room.put(code, SEQUENCE_CODE);
-            room.put(code + 1, base);
-            room.put(code + 2, definitions);
-            room.put(code + 3, n);
-            return code;
+            parts(SET_LOCAL_CODE, room.cdr(room.cdr(form)), code);
         }
 
         // lambda: its FORMALS are a scope, its BODY another one in the same frame
 
         /** A lambda that the form at hand has or is, at the depth at hand. */
-        private void lambda(int formals, int body) {
+        private void lambda(int formals, int body, boolean isLet) {
             int code = room.make(5);
             room.put(code, LAMBDA_CODE);
-            room.put(target, code);
             int scope = formals == Room.NIL ? 0 : room.record(3, environment, 0, 0, 0);
             int rest = formals;
             int n = 0;
@@ -4404,8 +4450,8 @@ public final class SchemeHouse {
             room.put(code + 1, n);
             room.put(code + 2, rest == Room.NIL ? 0 : 1);
             push(LOOK, body, scope == 0 ? environment : scope, depth + 1, code);
-            setFrame(5, form);
-            setFrame(6, 0);
+            setFrame(13, LAMBDA_CODE);
+            setFrame(15, isLet ? 1 : 0);
             setFrame(7, Room.NIL);
             setFrame(8, Room.NIL);
             setFrame(9, 0);
@@ -4424,15 +4470,10 @@ public final class SchemeHouse {
         // BODY's own scope (10), that of the FORMALS (11), the level around (12); the form that it belongs to (5)
 
         private void look() {
+            listBehind();
             int rest = frame(1);
-            int behind = frame(6);
-            for (int n = 0; n < Room.SIZE && rest == Room.NIL && behind != 0; n++) {
-                rest = room.at(behind);
-                behind = room.at(behind + 1);
-            }
             if (rest == Room.NIL) room.wrong(frame(5));
             setFrame(1, room.cdr(rest));
-            setFrame(6, behind);
             environment = frame(2);
             depth = frame(3);
             form = room.car(rest);
@@ -4487,16 +4528,6 @@ public final class SchemeHouse {
 
         /** The first EXPRESSION of a BODY was come to: all definitions were looked at. */
         private void firstExpression() {
-            int first = room.cons(form, frame(1));
-            int n = 1 + room.pairs(frame(1));
-            int last = first;
-            for (int behind = frame(6), k = 0; k < Room.SIZE && behind != 0; behind = room.at(behind + 1), k++) {
-                int more = room.at(behind);
-                if (more == Room.NIL) continue;
-                n += room.pairs(more);
-                last = ended(last);
-                room.put(Room.index(last) + 1, more);
-            }
             int code = frame(4);
             int definitions = frame(9);
             int formals = room.at(code + 1) + room.at(code + 2);
@@ -4504,30 +4535,10 @@ public final class SchemeHouse {
             if (frame(10) != 0) room.put(frame(10) + 2, level);
             if (frame(11) != 0) room.put(frame(11) + 2, level);
             room.put(code + 3, formals + definitions);
-            int body = frame(2);
-            int at = frame(3);
-            int list = frame(7);
-            top--;
-            int to = code + 4;
-            if (definitions + n > 1) {
-                int sequence = sequenceCode(formals, definitions, definitions + n);
-                room.put(code + 4, sequence);
-                to = sequence + 4;
-            }
-            push(PARTS, first, body, at, to + definitions);
-            if (definitions > 0) push(DEFINITIONS, list, body, at, to);
+            setFrame(8, room.cons(form, frame(1)));
+            setFrame(0, DEFINITIONS);
+            setFrame(1, frame(7));
             state = TAKE;
-        }
-
-        /** The last pair of a copy of the list behind this pair, which takes the list's place. */
-        private int ended(int pair) {
-            int last = pair;
-            for (int rest = room.cdr(pair), n = 0; n < Room.SIZE && Room.isPair(rest); rest = room.cdr(rest), n++) {
-                int copy = room.cons(room.car(rest), Room.NIL);
-                room.put(Room.index(last) + 1, copy);
-                last = copy;
-            }
-            return last;
         }
 
         /** What a define gives its IDENTIFIER is expanded next, one deeper than the define. */
@@ -4546,7 +4557,7 @@ public final class SchemeHouse {
             room.spend(1);
             if (room.pairs(define) < 3) room.wrong(define);
             room.spend(2);
-            lambda(room.cdr(second()), room.cdr(room.cdr(define)));
+            lambda(room.cdr(second()), room.cdr(room.cdr(define)), false);
         }
 
         // let-syntax
@@ -4565,16 +4576,12 @@ public final class SchemeHouse {
                 state = BIND;
                 return;
             }
-            environment = frame(6);
+            environment = frame(10);
             depth = frame(3) + 1;
-            target = frame(4);
             top--;
             if (depth > DEEPEST) room.wrong(form);
             room.spend(4);
-            int code = room.record(3, APPLICATION_CODE, 1, 0, 0);
-            room.put(target, code);
-            target = code + 2;
-            lambda(Room.NIL, room.cdr(room.cdr(form)));
+            lambda(Room.NIL, room.cdr(room.cdr(form)), true);
         }
 
         /** RULES that were to be bound are a MACRO now. */
@@ -4582,7 +4589,7 @@ public final class SchemeHouse {
             state = TAKE;
             if (where == LET) {
                 int rest = frame(1);
-                tables.bindIn(frame(6), room.car(room.car(rest)), macro);
+                tables.bindIn(frame(10), room.car(room.car(rest)), macro);
                 setFrame(1, room.cdr(rest));
             } else if (where == BODY) {
                 tables.bindIn(frame(10), second(), macro);
@@ -5600,11 +5607,11 @@ public final class SchemeHouse {
                 case Expander.DEFINE:
                     room.spend(1);
                     room.pushFrame(DEFINE_FRAME, expander.symbol, table, 0, 0);
-                    code = room.at(expander.root);
+                    code = expander.result();
                     mode = COMPUTE;
                     break;
                 default:
-                    code = room.at(expander.root);
+                    code = expander.result();
                     mode = COMPUTE;
             }
         }
