@@ -2888,7 +2888,7 @@ public final class SchemeHouse {
     /**
      * What IDENTIFIERS MEAN. An environment is the index of a scope (parent, bindings, how many frames there are up to
      * it) or of a table (whose parent is 0). A table's bindings hang on their SYMBOLS: table, what, imported, next.
-     * Libraries (name, table, exports, next) and what import makes of them are here, too.
+     * Libraries (a table with NAME, declarations, the next library) and what import makes of them are here, too.
      */
     private static final class Tables {
         static final int MOST_LIBRARIES = 12;
@@ -2914,16 +2914,12 @@ public final class SchemeHouse {
 
         Tables(Room room) {
             this.room = room;
-            house = newTable();
+            house = room.record(4, 0, 0, 0, 0);
         }
 
         void renew() {
             first = 0;
             libraries = 0;
-        }
-
-        private int newTable() {
-            return room.record(2, 0, 0, 0, 0);
         }
 
         /**
@@ -3110,11 +3106,23 @@ public final class SchemeHouse {
             }
             int library = find(at);
             if (library == 0) room.wrong(whole);
-            int table = room.at(library + 1);
-            for (int e = room.at(library + 2), turn = 0; turn < MOST_EXPORTS && e != 0; e = room.at(e + 2), turn++) {
-                addName(room.at(e), table, room.at(e + 1));
-            }
+            addExports(library);
             return within;
+        }
+
+        private void addExports(int library) {
+            int rest = room.at(library + 2);
+            for (int turn = 0; turn < Room.SIZE && Room.isPair(rest); rest = room.cdr(rest), turn++) {
+                int part = room.car(rest);
+                if (!room.isNamed(room.car(part), "export")) continue;
+                for (int e = room.cdr(part), n = 0; n < Room.SIZE && Room.isPair(e); e = room.cdr(e), n++) {
+                    int told = room.car(e);
+                    boolean renamed = Room.isPair(told);
+                    int inside = renamed ? room.car(room.cdr(told)) : told;
+                    int outside = renamed ? room.car(room.cdr(room.cdr(told))) : told;
+                    addName(room.symbolOf(outside), library, room.symbolOf(inside));
+                }
+            }
         }
 
         private void addName(int name, int table, int what) {
@@ -3158,7 +3166,7 @@ public final class SchemeHouse {
 
         private int find(int name) {
             int library = first;
-            for (int n = 0; n < libraries && library != 0 && !sameName(room.at(library), name); n++) {
+            for (int n = 0; n < libraries && library != 0 && !sameName(room.at(library + 1), name); n++) {
                 library = room.at(library + 3);
             }
             return library;
@@ -3173,19 +3181,24 @@ public final class SchemeHouse {
             else rename(rest, whole);
         }
 
+        /** Each name's SYMBOL is marked with where it is. */
+        private void markNames() {
+            for (int i = 0; i < names; i++) room.put(Room.index(word(i * 3)) + Room.VARIABLE, i);
+        }
+
         /** Where the IDENTIFIER's SYMBOL is among the names; what isn't there is wrong. */
         private int position(int id, int whole) {
             if (!Room.isIdentifier(id)) room.wrong(whole);
             int symbol = room.symbolOf(id);
-            int i = 0;
-            while (i < names && word(i * 3) != symbol) i++;
-            if (i >= names) room.wrong(whole);
+            int i = room.at(Room.index(symbol) + Room.VARIABLE);
+            if (i < 0 || i >= names || word(i * 3) != symbol) room.wrong(whole);
             return i;
         }
 
         /** Of the names those told are kept, or the others. */
         private void keep(int ids, boolean told, int whole) {
             int kept = 0;
+            markNames();
             for (int i = 0; i < names; i++) setWord(OTHER + i, 0);
             for (int rest = ids, turn = 0; turn < Room.SIZE && Room.isPair(rest); rest = room.cdr(rest), turn++) {
                 setWord(OTHER + position(room.car(rest), whole), 1);
@@ -3216,6 +3229,7 @@ public final class SchemeHouse {
         }
 
         private void rename(int pairs, int whole) {
+            markNames();
             for (int i = 0; i < names; i++) setWord(OTHER + i, Room.NOTHING);
             for (int rest = pairs, turn = 0; turn < Room.SIZE && Room.isPair(rest); rest = room.cdr(rest), turn++) {
                 int pair = room.car(rest);
@@ -3226,8 +3240,9 @@ public final class SchemeHouse {
                 setWord(OTHER + i, room.symbolOf(to));
             }
             for (int i = 0; i < names; i++) if (word(OTHER + i) != Room.NOTHING) setWord(i * 3, word(OTHER + i));
+            markNames();
             for (int i = 0; i < names; i++) {
-                for (int j = 0; j < i; j++) if (word(i * 3) == word(j * 3)) room.wrong(whole);
+                if (room.at(Room.index(word(i * 3)) + Room.VARIABLE) != i) room.wrong(whole);
             }
         }
 
@@ -3254,8 +3269,6 @@ public final class SchemeHouse {
             int name = room.car(rest);
             int declarations = room.cdr(rest);
             int exports = 0;
-            int last = 0;
-            int count = 0;
             for (int d = declarations, turn = 0; turn < Room.SIZE && Room.isPair(d); d = room.cdr(d), turn++) {
                 int part = room.car(d);
                 if (!Room.isPair(part) || !room.isList(part)) room.wrong(form);
@@ -3263,27 +3276,24 @@ public final class SchemeHouse {
                 if (room.isNamed(head, "import") || room.isNamed(head, "begin")) continue;
                 if (!room.isNamed(head, "export")) room.wrong(form);
                 for (int e = room.cdr(part), n = 0; n < Room.SIZE && Room.isPair(e); e = room.cdr(e), n++) {
-                    int export = export(room.car(e), exports, form);
-                    if (last == 0) exports = export;
-                    else room.put(last + 2, export);
-                    last = export;
-                    count++;
-                    if (count > MOST_EXPORTS) room.wrong(form);
+                    lookAtExport(room.car(e), exports, form);
+                    exports++;
+                    if (exports > MOST_EXPORTS) room.wrong(form);
                 }
             }
             if (libraries >= MOST_LIBRARIES && find(name) == 0) room.wrong(form);
-            int table = newTable();
+            int table = room.record(4, 0, name, declarations, 0);
             all = 0;
             for (int d = declarations, turn = 0; turn < Room.SIZE && Room.isPair(d); d = room.cdr(d), turn++) {
                 int part = room.car(d);
                 if (room.isNamed(room.car(part), "import")) addSets(room.cdr(part), form);
             }
             bindAll(table);
-            return room.record(4, name, table, exports, 0);
+            return table;
         }
 
-        /** What a library exports: the name outside, the name inside. */
-        private int export(int told, int exports, int form) {
+        /** An export that so many are ahead of, whose names outside stand at OTHER, with their places as marks. */
+        private void lookAtExport(int told, int exports, int form) {
             int inside = told;
             int outside = told;
             if (Room.isPair(told)) {
@@ -3294,23 +3304,26 @@ public final class SchemeHouse {
             }
             if (!Room.isIdentifier(inside) || !Room.isIdentifier(outside)) room.wrong(form);
             int name = room.symbolOf(outside);
-            for (int e = exports, turn = 0; turn <= MOST_EXPORTS && e != 0; e = room.at(e + 2), turn++) {
-                if (room.at(e) == name) room.wrong(form);
-            }
-            return room.record(3, name, room.symbolOf(inside), 0, 0);
+            int marked = room.at(Room.index(name) + Room.VARIABLE);
+            if (marked >= 0 && marked < exports && word(OTHER + marked) == name) room.wrong(form);
+            setWord(OTHER + exports, name);
+            room.put(Room.index(name) + Room.VARIABLE, exports);
         }
 
         /** The library's FORMS are done: it takes the place of an old one of its NAME. */
         void install(int library) {
-            int old = find(room.at(library));
+            int old = find(room.at(library + 1));
             if (old == 0) {
-                room.put(library + 3, first);
-                first = library;
                 libraries++;
+            } else if (old == first) {
+                first = room.at(old + 3);
             } else {
-                room.put(old + 1, room.at(library + 1));
-                room.put(old + 2, room.at(library + 2));
+                int ahead = first;
+                for (int n = 0; n < libraries && ahead != 0 && room.at(ahead + 3) != old; n++) ahead = room.at(ahead + 3);
+                room.put(ahead + 3, room.at(old + 3));
             }
+            room.put(library + 3, first);
+            first = library;
         }
     }
 
@@ -5566,17 +5579,44 @@ public final class SchemeHouse {
                 start(form, tables.house);
                 return;
             }
-            int list = room.at(agenda + 1);
             if (room.at(agenda) == LIBRARY) {
-                tables.install(list);
-                value = Room.UNSPECIFIED;
-                agenda = room.at(agenda + 3);
-            } else if (!Room.isPair(list)) {
-                agenda = room.at(agenda + 3);
+                nextOfLibrary();
+                return;
+            }
+            int list = room.at(agenda + 1);
+            if (!Room.isPair(list)) {
+                dropAgenda(4);
             } else {
                 room.put(agenda + 1, room.cdr(list));
                 start(room.car(list), room.at(agenda + 2));
             }
+        }
+
+        /** The next one of a library's FORMS; behind the last one the library is there. */
+        private void nextOfLibrary() {
+            int library = room.at(agenda + 1);
+            int rest = room.at(agenda + 2);
+            int forms = room.at(agenda + 4);
+            for (int n = 0; n < Room.SIZE && !Room.isPair(forms) && Room.isPair(rest); rest = room.cdr(rest), n++) {
+                int part = room.car(rest);
+                if (room.isNamed(room.car(part), "begin")) forms = room.cdr(part);
+            }
+            if (Room.isPair(forms)) {
+                room.put(agenda + 2, rest);
+                room.put(agenda + 4, room.cdr(forms));
+                start(room.car(forms), library);
+            } else {
+                tables.install(library);
+                value = Room.UNSPECIFIED;
+                dropAgenda(5);
+            }
+        }
+
+        /** The newest entry of so many words is through; its words are free again if nothing was made behind them. */
+        private void dropAgenda(int words) {
+            int entry = agenda;
+            agenda = room.at(entry + 3);
+            if (entry + words == room.top) room.top = entry;
         }
 
         private void start(int form, int table) {
@@ -5617,16 +5657,13 @@ public final class SchemeHouse {
         }
 
         private void library(int library) {
-            agenda = room.record(4, LIBRARY, library, 0, agenda);
-            int begins = 0;
-            int rest = room.cdr(room.cdr(expander.form));
-            for (int n = 0; n < Room.SIZE && Room.isPair(rest); rest = room.cdr(rest), n++) {
-                int part = room.car(rest);
-                if (room.isNamed(room.car(part), "begin")) begins = room.record(2, part, begins, 0, 0);
-            }
-            for (int n = 0; n < Room.SIZE && begins != 0; begins = room.at(begins + 1), n++) {
-                agenda = room.record(4, FORMS, room.cdr(room.at(begins)), room.at(library + 1), agenda);
-            }
+            int entry = room.make(5);
+            room.put(entry, LIBRARY);
+            room.put(entry + 1, library);
+            room.put(entry + 2, room.cdr(room.cdr(expander.form)));
+            room.put(entry + 3, agenda);
+            room.put(entry + 4, Room.NIL);
+            agenda = entry;
         }
 
         // codes
