@@ -243,7 +243,7 @@ public final class SchemeHouse {
 
     /** What all others share: the words that Scheme's objects are made of, WORK, and the condition at hand. */
     private static final class Room {
-        static final int SIZE = 1 << 20;
+        static final int SIZE = 1 << 21;
         static final int AT_FIRST = 1 << 17;
         static final int BUCKETS = 1024;
         static final int CALLS = 1 << 16;
@@ -651,7 +651,8 @@ public final class SchemeHouse {
 
         private boolean hasSigns(int symbol, int n) {
             if (words[symbol + 2 & (words.length - 1)] != n) return false;
-            for (int j = 0; j < n; j++) if (words[symbol + SIGNS + j & (words.length - 1)] != sign[j & 63]) return false;
+            int at = symbol + SIGNS;
+            for (int j = 0; j < n; j++) if (words[at + j & (words.length - 1)] != sign[j & 63]) return false;
             return true;
         }
 
@@ -3120,7 +3121,8 @@ public final class SchemeHouse {
                     boolean renamed = Room.isPair(told);
                     int inside = renamed ? room.car(room.cdr(told)) : told;
                     int outside = renamed ? room.car(room.cdr(room.cdr(told))) : told;
-                    addName(room.symbolOf(outside), library, room.symbolOf(inside));
+                    setName(names * 3, room.symbolOf(outside), library, room.symbolOf(inside));
+                    names++;
                 }
             }
         }
@@ -3319,7 +3321,7 @@ public final class SchemeHouse {
                 first = room.at(old + 3);
             } else {
                 int ahead = first;
-                for (int n = 0; n < libraries && ahead != 0 && room.at(ahead + 3) != old; n++) ahead = room.at(ahead + 3);
+                for (int n = 0; n < libraries && room.at(ahead + 3) != old; n++) ahead = room.at(ahead + 3);
                 room.put(ahead + 3, room.at(old + 3));
             }
             room.put(library + 3, first);
@@ -3388,7 +3390,7 @@ public final class SchemeHouse {
         }
 
         private boolean isLiteral(int id) {
-            return room.at(Room.index(id) + Room.LITERAL) == macro;
+            return room.words[(id >>> 6) + Room.LITERAL & (room.words.length - 1)] == macro;
         }
 
         private boolean isEllipsis(int v) {
@@ -3557,7 +3559,7 @@ public final class SchemeHouse {
         }
 
         private int variable(int id) {
-            int j = room.at(Room.index(id) + Room.VARIABLE);
+            int j = room.words[(id >>> 6) + Room.VARIABLE & (room.words.length - 1)];
             return j >= 0 && j < names && variables[(j * 4) & NAMES] == id ? j : -1;
         }
 
@@ -3674,27 +3676,22 @@ public final class SchemeHouse {
             for (int tried = 0; tried < Room.SIZE && Room.isPair(rule); rule = room.cdr(rule), tried++) {
                 room.spend(1);
                 int both = room.car(rule);
-                if (isMatched(room.cdr(room.car(both)))) return build(room.car(room.cdr(both)), false);
+                top = 0;
+                names = 0;
+                things = 0;
+                within = 0;
+                rowTop = 1;
+                forgetParts();
+                hold(room.cdr(room.car(both)), -1, room.cdr(use), -1);
+                boolean fits = true;
+                for (long turn = 0; turn < EVER && top > 0 && fits; turn++) {
+                    if (frame(0) == BEGIN) fits = beginRow();
+                    else fits = frame(0) == ROW ? goOver() : goOn();
+                }
+                if (fits) return build(room.car(room.cdr(both)), false);
             }
             room.wrong(use);
             return Room.NIL;
-        }
-
-        /** Whether the use fits; what the variables get stands in them then. */
-        private boolean isMatched(int pattern) {
-            top = 0;
-            names = 0;
-            things = 0;
-            within = 0;
-            rowTop = 1;
-            forgetParts();
-            hold(pattern, -1, room.cdr(use), -1);
-            boolean fits = true;
-            for (long turn = 0; turn < EVER && top > 0 && fits; turn++) {
-                if (frame(0) == BEGIN) fits = beginRow();
-                else fits = frame(0) == ROW ? goOver() : goOn();
-            }
-            return fits;
         }
 
         // parts under ELLIPSES that were walked through already: the part, when, two numbers. All that was known before
@@ -3957,6 +3954,7 @@ public final class SchemeHouse {
             return Room.NOTHING;
         }
 
+        /** What isn't a list or vector. An IDENTIFIER has its ALIAS as a mark, which holds as long as this use. */
         private int leaf(int t) {
             if (!Room.isIdentifier(t)) return t;
             if (quoting) return room.symbolOf(t);
@@ -3964,21 +3962,17 @@ public final class SchemeHouse {
             if (j >= 0) return variable(j, 2);
             int alias = room.at(Room.index(t) + Room.ALIASED);
             boolean own = Room.kind(alias) == Room.ALIAS && Room.index(alias) >= mark;
-            return own && room.at(Room.index(alias)) == t ? alias : newAlias(t);
-        }
-
-        /** An ALIAS; the IDENTIFIER that it is of has it as a mark, which holds as long as this use. */
-        private int newAlias(int id) {
+            if (own && room.at(Room.index(alias)) == t) return alias;
             room.spend(1);
             int i = room.make(6);
-            room.put(i, id);
+            room.put(i, t);
             room.put(i + 1, room.at(Room.index(macro)));
-            room.put(i + 2, room.symbolOf(id));
+            room.put(i + 2, room.symbolOf(t));
             room.put(i + Room.VARIABLE, 0);
             room.put(i + Room.ALIASED, 0);
             room.put(i + Room.LITERAL, 0);
-            int alias = Room.value(Room.ALIAS, i);
-            room.put(Room.index(id) + Room.ALIASED, alias);
+            alias = Room.value(Room.ALIAS, i);
+            room.put(Room.index(t) + Room.ALIASED, alias);
             return alias;
         }
 
@@ -4027,6 +4021,7 @@ public final class SchemeHouse {
             setFrame(1, o);
             setFrame(2, i);
             if (rows == 0) return begun(part, escaped);
+            if (!isKnown(part)) findVariables(part);
             beginRound(part, rows);
             return Room.NOTHING;
         }
@@ -4045,11 +4040,10 @@ public final class SchemeHouse {
             return Room.value(Room.VECTOR, at);
         }
 
-        /** The rows of all variables in a part are gone over together: each is saved, with its row and next item. */
+        /** The rows of all variables in a known part are gone over together: each is saved, with row and next item. */
         private void beginRound(int part, int rows) {
             int from = saved;
             int count = -1;
-            if (!isKnown(part)) findVariables(part);
             int last = knows(part, 3);
             for (int k = knows(part, 2); k < last; k++) {
                 int j = found[k & FOUND];
@@ -4111,6 +4105,7 @@ public final class SchemeHouse {
             }
             setFrame(5, frame(5) - 1);
             if (frame(2) == 1) return begun(frame(1), 0);
+            if (!isKnown(frame(1))) findVariables(frame(1));
             beginRound(frame(1), frame(2) - 1);
             return Room.NOTHING;
         }
@@ -4201,7 +4196,7 @@ public final class SchemeHouse {
             made++;
         }
 
-        // frames, sixteen words each: the sort; the list that is left, where its forms stand and how deep; the code that
+        // frames, sixteen words each: the sort; the list that is left, where its forms stand, how deep; the code that
         // they are parts of if it is made (4), the form it is of (5), lists behind (6), what it is (13), the first of
         // its parts' codes (14), whether a BODY's lambda is let-syntax's (15)
 
