@@ -344,7 +344,7 @@ class Reader:
                     if c in DELIM: raise Wrong(b)
                     if c==35 and s.raw(b+1)==92:
                         if b+2>=s.n: raise Wrong(s.n)
-                        s.at(b+2); t=s.token(b+3)
+                        if s.at(b+2)>=32: t=s.token(b+3)
                         raise Wrong(b)
                     t=s.token(b)
                     x=parse_number(t)
@@ -355,6 +355,7 @@ class Reader:
             if e==92:
                 if st+2>=s.n: raise Wrong(s.n)
                 c=s.at(st+2)
+                if c<32: raise Wrong(st)
                 s.p=st+3
                 t=chr(c)+s.token(st+3)
                 if len(t)==1:

@@ -265,7 +265,7 @@ def install(h):
         t=a[-1] if a else NIL
         for x in reversed(a[:-1]): t=h.mklist(tolist(x),t)
         return t
-    reg('append','x*',append)
+    reg('append','xx*',append)
     reg('reverse','l',lambda a:h.mklist(list(reversed(tolist(a[0])))))
     def far(name):
         def f(a):
