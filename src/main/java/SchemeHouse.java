@@ -3359,13 +3359,11 @@ public final class SchemeHouse {
         private int top;
         private int walked;
         private int names;
-        private int rowTop;
         private int things;
         private int within;
         private int use;
         private int environment;
         private int macro;
-        private boolean quoting;
         private int saved;
         private int stamp;
         private int base;
@@ -3680,7 +3678,7 @@ public final class SchemeHouse {
                 names = 0;
                 things = 0;
                 within = 0;
-                rowTop = 1;
+                rows[0] = 1;
                 forgetParts();
                 hold(room.cdr(room.car(both)), -1, room.cdr(use), -1);
                 boolean fits = true;
@@ -3806,10 +3804,10 @@ public final class SchemeHouse {
             }
         }
 
-        /** A row: the first item, the last, how many, the row that it is in. An item: what it is, the next. */
+        /** A row, behind all others (rows begins with where): the first item, the last, how many, the row that it is in. An item: what it is, the next. */
         private int newRow(int around) {
-            int row = rowTop;
-            rowTop += 4;
+            int row = rows[0];
+            rows[0] = row + 4;
             rows[row & ROWS] = 0;
             rows[(row + 1) & ROWS] = 0;
             rows[(row + 2) & ROWS] = 0;
@@ -3818,8 +3816,8 @@ public final class SchemeHouse {
         }
 
         private void addItem(int row, int x) {
-            int item = rowTop;
-            rowTop += 2;
+            int item = rows[0];
+            rows[0] = item + 2;
             rows[item & ROWS] = x;
             rows[(item + 1) & ROWS] = 0;
             int last = rows[(row + 1) & ROWS];
@@ -3924,7 +3922,7 @@ public final class SchemeHouse {
 
         /** A template's datum made; or, when quoting, a copy without ALIASES. */
         int build(int template, boolean quoting) {
-            this.quoting = quoting;
+            if (quoting) macro = Room.NOTHING;
             top = 0;
             saved = 0;
             mark = room.top;
@@ -3957,7 +3955,7 @@ public final class SchemeHouse {
         /** What isn't a list or vector. An IDENTIFIER has its ALIAS as a mark, which holds as long as this use. */
         private int leaf(int t) {
             if (!Room.isIdentifier(t)) return t;
-            if (quoting) return room.symbolOf(t);
+            if (macro == Room.NOTHING) return room.symbolOf(t);
             int j = variable(t);
             if (j >= 0) return variable(j, 2);
             int alias = room.at(Room.index(t) + Room.ALIASED);
