@@ -3804,7 +3804,10 @@ public final class SchemeHouse {
             }
         }
 
-        /** A row, behind all others (rows begins with where): the first item, the last, how many, the row that it is in. An item: what it is, the next. */
+        /**
+         * A row: the first item, the last, how many, the row that it is in. An item: what it is, the next. rows itself
+         * begins with where there is room.
+         */
         private int newRow(int around) {
             int row = rows[0];
             rows[0] = row + 4;
