@@ -3336,6 +3336,8 @@ public final class SchemeHouse {
     private static final class Rules {
         static final int SEQUENCE = 0, ROW = 1, BEGIN = 2;
         static final int BAD = -1, OPENED = -2;
+        static final int UNPLAIN = 1 << Room.PAIR | 1 << Room.VECTOR | 1 << Room.SYMBOL | 1 << Room.ALIAS;
+        static final int COUNTED = 1 << Room.STRING | 1 << Room.BYTES;
         static final int MOST_THINGS = 20000;
         static final int STACK = (1 << 14) - 1;
         static final int ROWS = (1 << 17) - 1;
@@ -3420,6 +3422,34 @@ public final class SchemeHouse {
             return i < 0 ? -1 : i + 1;
         }
 
+        /** From i on the first element that is a pair, VECTOR or IDENTIFIER, or right ahead of one (of an ELLIPSIS). */
+        private int behindPlain(int vector, int i) {
+            int[] words = room.words;
+            int mask = words.length - 1;
+            int n = words[vector >>> 6 & mask];
+            int base = words[(vector >>> 6) + 1 & mask];
+            for (int at = i; at < n; at++) {
+                int v = words[base + at & mask];
+                if ((v & 1) == 0 && (UNPLAIN >> (v >> 1 & 31) & 1) != 0) return Math.max(i, at - 1);
+            }
+            return n;
+        }
+
+        /** How many elements from i and j on are the same ones, not counted as WORK and without an ELLIPSIS behind. */
+        private int alike(int pattern, int i, int thing, int j) {
+            int[] words = room.words;
+            int mask = words.length - 1;
+            int n = Math.min(behindPlain(pattern, i) - i, words[thing >>> 6 & mask] - j);
+            int first = words[(pattern >>> 6) + 1 & mask] + i;
+            int second = words[(thing >>> 6) + 1 & mask] + j;
+            for (int k = 0; k < n; k++) {
+                int v = words[first + k & mask];
+                boolean counted = (v & 1) == 0 && (COUNTED >> (v >> 1 & 31) & 1) != 0;
+                if (counted || v != words[second + k & mask]) return k;
+            }
+            return Math.max(n, 0);
+        }
+
         // frames of the walk: what is gone through, and two numbers more
 
         private void walkInto(int o, int i, int a, int b) {
@@ -3447,6 +3477,7 @@ public final class SchemeHouse {
                 int depth = walking(2);
                 if (depth > deepest || count > most) return false;
                 if (i >= 0) {
+                    i = behindPlain(o, i);
                     if (i >= room.size(o)) continue;
                     walkInto(o, i + 1, depth, 0);
                     walkInto(room.element(o, i), -1, depth + 1, 0);
@@ -3456,6 +3487,7 @@ public final class SchemeHouse {
                     walkInto(room.car(o), -1, depth + 1, 0);
                 } else if (Room.kind(o) == Room.VECTOR) {
                     count++;
+                    if (depth == deepest && room.size(o) > 0) return false;
                     walkInto(o, 0, depth, 0);
                 }
             }
@@ -3512,6 +3544,7 @@ public final class SchemeHouse {
                 int i = walking(1);
                 int depth = walking(2);
                 int seen = walking(3);
+                if (i >= 0) i = behindPlain(o, i);
                 if (!hasPart(o, i)) {
                     if (i < 0 && !isPart(o, depth)) return false;
                     continue;
@@ -3611,6 +3644,7 @@ public final class SchemeHouse {
             int i = frame(2);
             int depth = frame(3);
             int escaped = frame(4);
+            if (i >= 0) i = behindPlain(o, i);
             if (hasPart(o, i)) {
                 int part = part(o, i);
                 o = behind(o, i);
@@ -3647,6 +3681,7 @@ public final class SchemeHouse {
             int o = walking(0);
             int i = walking(1);
             if (i >= 0) {
+                i = behindPlain(o, i);
                 if (i < room.size(o)) {
                     walkInto(o, i + 1, 0, 0);
                     walkInto(room.element(o, i), -1, 0, 0);
@@ -3740,28 +3775,39 @@ public final class SchemeHouse {
             setFrame(4, thingI);
         }
 
+        /** A list or VECTOR is gone through up to a part that is one, too, or that an ELLIPSIS stands behind. */
         private boolean goOn() {
             int patternO = frame(1);
             int patternI = frame(2);
             int thingO = frame(3);
             int thingI = frame(4);
             top--;
-            if (!hasPart(patternO, patternI)) {
-                if (patternI >= 0) return !hasPart(thingO, thingI);
-                return isMatch(patternO, thingO);
+            if (patternI >= 0) {
+                int alike = alike(patternO, patternI, thingO, thingI);
+                patternI += alike;
+                thingI += alike;
             }
-            int part = part(patternO, patternI);
-            int restO = behind(patternO, patternI);
-            int restI = next(patternI);
-            if (isEllipsisAt(restO, restI)) {
-                hold(behind(restO, restI), next(restI), thingO, thingI);
-                setFrame(0, BEGIN);
-                setFrame(5, part);
-                return true;
+            for (int n = 0; n < Room.SIZE && hasPart(patternO, patternI); n++) {
+                int part = part(patternO, patternI);
+                patternO = behind(patternO, patternI);
+                patternI = next(patternI);
+                if (isEllipsisAt(patternO, patternI)) {
+                    hold(behind(patternO, patternI), next(patternI), thingO, thingI);
+                    setFrame(0, BEGIN);
+                    setFrame(5, part);
+                    return true;
+                }
+                if (!hasPart(thingO, thingI)) return false;
+                int thing = part(thingO, thingI);
+                thingO = behind(thingO, thingI);
+                thingI = next(thingI);
+                if (Room.isPair(part) || Room.kind(part) == Room.VECTOR) {
+                    hold(patternO, patternI, thingO, thingI);
+                    return isMatch(part, thing);
+                }
+                if (!isMatch(part, thing)) return false;
             }
-            if (!hasPart(thingO, thingI)) return false;
-            hold(restO, restI, behind(thingO, thingI), next(thingI));
-            return isMatch(part, part(thingO, thingI));
+            return patternI >= 0 ? !hasPart(thingO, thingI) : isMatch(patternO, thingO);
         }
 
         private boolean isMatch(int p, int x) {
@@ -3890,6 +3936,7 @@ public final class SchemeHouse {
             if (i < 0 && Room.kind(o) == Room.VECTOR) {
                 walkInto(o, 0, depth, 0);
             } else if (i >= 0 || Room.isPair(o)) {
+                if (i >= 0) i = behindPlain(o, i);
                 if (!hasPart(o, i)) return Room.NOTHING;
                 int restO = behind(o, i);
                 int restI = next(i);

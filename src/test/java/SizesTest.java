@@ -94,6 +94,16 @@ final class SizesTest {
             "#<unspecified>");
         h.due("(m #1=(" + few + ")" + "#1#".repeat(40) + ")", 0, "all");
         h.due("(m #1=(" + few + ")" + "#1#".repeat(40) + "())", 0, "other");
+        h.due("(m (#0=#(" + "1 ".repeat(999) + "1)" + "#0#".repeat(99) + "#(1)))", 0, "other");
+        h.due("(define-syntax m (syntax-rules () ((_ #(1 2 3 4 x)) 'x) ((_ #(1 2 \"s\" 4 ... 5)) 'string)"
+            + " ((_ #(1 2 x ... 5 6)) '(x ...)) ((_ . r) 'other)))", 0, "#<unspecified>");
+        h.due("(m #(1 2 3 4 5))", 0, "5");
+        h.due("(m #(1 2 3 4))", 0, "other");
+        h.due("(m #(1 2 \"s\" 5))", 0, "string");
+        h.due("(m #(1 2 \"s\" 4 4 4 5))", 0, "string");
+        h.due("(m #(1 2 \"t\" 4 4 5 6))", 0, "(\"t\" 4 4)");
+        h.due("(m #(1 2 5 6))", 0, "()");
+        h.due("(m #(1 2 5 6 6))", 0, "other");
     }
 
     private void longTemplates() {
