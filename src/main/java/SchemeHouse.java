@@ -261,8 +261,9 @@ public final class SchemeHouse {
         static final int UNASSIGNED = 384, TOO_BIG = 448, FIRST_CHAR = 256 << 6, FIRST_CORE = 512 << 6;
 
         // marks of IDENTIFIERS (an ALIAS is: of what, the MACRO's environment, its SYMBOL, marks; a SYMBOL: the next in
-        // its bucket, bindings, how many signs, marks, signs): the number of a variable, an ALIAS, a MACRO
-        static final int VARIABLE = 3, ALIASED = 4, LITERAL = 5, SIGNS = 6;
+        // its bucket, bindings, how many signs, marks, signs): the number of a variable, an ALIAS, a MACRO, whether any
+        // scope binds it
+        static final int VARIABLE = 3, ALIASED = 4, LITERAL = 5, SCOPED = 6, SIGNS = 7;
 
         // the first word of a PROC
         static final int PRIMITIVE = 0, CLOSURE = 1, CONTINUATION = 2, PARAMETER = 3, CASES = 4, MAKER = 5, ASKER = 6;
@@ -643,6 +644,7 @@ public final class SchemeHouse {
             put(i + VARIABLE, 0);
             put(i + ALIASED, 0);
             put(i + LITERAL, 0);
+            put(i + SCOPED, 0);
             for (int j = 0; j < n; j++) put(i + SIGNS + j, sign[j & 63]);
             words[bucket] = i;
             fresh = 1 + n;
@@ -2931,12 +2933,12 @@ public final class SchemeHouse {
             int id = identifier;
             int scope = environment;
             for (int hops = 0; hops < Room.SIZE; hops++) {
+                boolean scoped = room.at(Room.index(id) + Room.SCOPED) != 0;
                 for (int up = 0; up < Room.SIZE && room.at(scope) != 0; up++) {
-                    for (int b = room.at(scope + 1), turn = 0; turn < Room.SIZE && b != 0; b = room.at(b + 2), turn++) {
-                        if (room.at(b) == id) {
-                            level = room.at(scope + 2);
-                            return (room.at(b + 1) & 1) == 1 ? Room.value(Room.SLOT, b) : room.at(b + 1);
-                        }
+                    int b = scoped ? bindingIn(scope, id) : 0;
+                    if (b != 0) {
+                        level = room.at(scope + 2);
+                        return (room.at(b + 1) & 1) == 1 ? Room.value(Room.SLOT, b) : room.at(b + 1);
                     }
                     scope = room.at(scope);
                 }
@@ -2946,8 +2948,7 @@ public final class SchemeHouse {
             }
             lastTable = scope;
             lastSymbol = id;
-            int b = room.at(Room.index(id) + 1);
-            for (int turn = 0; turn < Room.SIZE && b != 0 && room.at(b) != scope; turn++) b = room.at(b + 3);
+            int b = binding(id, scope);
             return b == 0 ? Room.NOTHING : room.at(b + 1);
         }
 
@@ -2969,10 +2970,18 @@ public final class SchemeHouse {
             room.put(b + 1, meaning);
             room.put(b + 2, room.at(scope + 1));
             room.put(scope + 1, b);
+            room.put(Room.index(id) + Room.SCOPED, 1);
+        }
+
+        private int bindingIn(int scope, int id) {
+            int b = room.at(scope + 1);
+            for (int turn = 0; turn < Room.SIZE && b != 0 && room.at(b) != id; turn++) b = room.at(b + 2);
+            return b;
         }
 
         boolean isBoundIn(int scope, int id) {
-            int b = scope == 0 ? 0 : room.at(scope + 1);
+            if (scope == 0 || room.at(Room.index(id) + Room.SCOPED) == 0) return false;
+            int b = room.at(scope + 1);
             for (int turn = 0; turn < Room.SIZE && b != 0 && room.at(b) != id; turn++) b = room.at(b + 2);
             return b != 0;
         }
@@ -4012,13 +4021,14 @@ public final class SchemeHouse {
             boolean own = Room.kind(alias) == Room.ALIAS && Room.index(alias) >= mark;
             if (own && room.at(Room.index(alias)) == t) return alias;
             room.spend(1);
-            int i = room.make(6);
+            int i = room.make(7);
             room.put(i, t);
             room.put(i + 1, room.at(Room.index(macro)));
             room.put(i + 2, room.symbolOf(t));
             room.put(i + Room.VARIABLE, 0);
             room.put(i + Room.ALIASED, 0);
             room.put(i + Room.LITERAL, 0);
+            room.put(i + Room.SCOPED, 0);
             alias = Room.value(Room.ALIAS, i);
             room.put(Room.index(t) + Room.ALIASED, alias);
             return alias;
