@@ -2935,7 +2935,8 @@ public final class SchemeHouse {
             for (int hops = 0; hops < Room.SIZE; hops++) {
                 boolean scoped = room.at(Room.index(id) + Room.SCOPED) != 0;
                 for (int up = 0; up < Room.SIZE && room.at(scope) != 0; up++) {
-                    int b = scoped ? bindingIn(scope, id) : 0;
+                    int b = scoped ? room.at(scope + 1) : 0;
+                    for (int turn = 0; turn < Room.SIZE && b != 0 && room.at(b) != id; turn++) b = room.at(b + 2);
                     if (b != 0) {
                         level = room.at(scope + 2);
                         return (room.at(b + 1) & 1) == 1 ? Room.value(Room.SLOT, b) : room.at(b + 1);
@@ -2948,7 +2949,8 @@ public final class SchemeHouse {
             }
             lastTable = scope;
             lastSymbol = id;
-            int b = binding(id, scope);
+            int b = room.at(Room.index(id) + 1);
+            for (int turn = 0; turn < Room.SIZE && b != 0 && room.at(b) != scope; turn++) b = room.at(b + 3);
             return b == 0 ? Room.NOTHING : room.at(b + 1);
         }
 
@@ -2971,12 +2973,6 @@ public final class SchemeHouse {
             room.put(b + 2, room.at(scope + 1));
             room.put(scope + 1, b);
             room.put(Room.index(id) + Room.SCOPED, 1);
-        }
-
-        private int bindingIn(int scope, int id) {
-            int b = room.at(scope + 1);
-            for (int turn = 0; turn < Room.SIZE && b != 0 && room.at(b) != id; turn++) b = room.at(b + 2);
-            return b;
         }
 
         boolean isBoundIn(int scope, int id) {
