@@ -199,6 +199,7 @@ final class EdgesOfProceduresTest {
         range("list-ref", "'(1 . 2) 1", "1");
         range("list-set!", "'(1 2) 2 'x", "2");
         due("(define l (list 1 2)) (list-set! l 1 'x) l", "(1 x)");
+        due("(c (list-set! l 2 'y)) l", "(1 x)");
         due("(define ring (list 1 2 3)) (set-cdr! (cddr ring) ring)", "#<unspecified>");
         due("(list (list-ref ring 300000) (list-ref ring 299999) (car (list-tail ring 300000)))", "(1 3 1)");
         due("(list-set! ring 300000 'x) (car ring)", "x");

@@ -55,6 +55,31 @@ final class PromisesTest {
         h.due("a byte of the RESULT", x.told(1, 0), '3');
         h.due("a byte above 127", x.feed(0x313b80ff, 0, 0, 0, 0) && x.end(4), true);
         h.due("is WRONG at itself", x.evaluate(), -3);
+        // what doesn't fit changes nothing: not the tape, nor INPUT, OUTPUT, RESULT, or what count tells
+        h.fresh();
+        h.input("abc");
+        h.due("(display 12) 'a", 0, "a");
+        h.feed(many(" ", 5990) + "(list 1 2)");
+        for (int what = 0; what <= 8; what++) {
+            int before = h.get().count(what);
+            h.due("feed of a full tape", h.get().feed(0x29292929, 0x29292929, 0x29292929, 0x29292929, 0x29292929), false);
+            h.due("count(" + what + ") stays", h.get().count(what), before);
+        }
+        h.due("OUTPUT stays", h.told(0), "12");
+        h.due("RESULT stays", h.told(1), "a");
+        h.due("evaluate()", h.get().evaluate(), 0);
+        h.due("RESULT of the full tape", h.told(1), "(1 2)");
+        h.due("(read)", 0, "abc");
+        h.feed(many(" ", 5971) + "(list 3 4)");
+        h.due("feed with 19 bytes left", h.get().feed(0x29292929, 0x29292929, 0x29292929, 0x29292929, 0x29292929), false);
+        h.due("the tape stays", h.get().count(5), 5981);
+        h.due("evaluate()", h.get().evaluate(), 0);
+        h.due("RESULT", h.told(1), "(3 4)");
+        h.feed(many(" ", 5970) + "(list 5 6)");
+        h.due("feed with 20 bytes left", h.get().feed(0x20282b20, 0x31203229, 0x20202020, 0x20202020, 0x20202020), true);
+        h.due("the tape is full", h.get().count(5), MOST);
+        h.due("evaluate()", h.get().evaluate(), 0);
+        h.due("RESULT", h.told(1), "3");
     }
 
     private void end() {
@@ -66,12 +91,28 @@ final class PromisesTest {
         h.due("end(-1)", x.end(-1), false);
         h.due("end(6)", x.end(6), false);
         h.due("end(least)", x.end(Integer.MIN_VALUE), false);
+        h.due("end(greatest)", x.end(Integer.MAX_VALUE), false);
         h.due("the tape stays", x.count(5), 5);
         h.due("end(5)", x.end(5), true);
         h.due("end(3)", x.end(3), true);
         h.due("bytes of the tape", x.count(5), 3);
         h.due("evaluate()", x.evaluate(), 0);
         h.due("RESULT", h.told(1), "123");
+        h.feed("678");
+        h.due("end(4)", x.end(4), false);
+        h.due("end(-1)", x.end(-1), false);
+        h.due("evaluate()", x.evaluate(), 0);
+        h.due("RESULT of what stayed", h.told(1), "678");
+        h.feed("9");
+        h.due("end(0)", x.end(0), true);
+        h.due("end(1) behind it", x.end(1), false);
+        h.due("the tape is empty", x.count(5), 0);
+        h.due("evaluate()", x.evaluate(), 0);
+        h.due("RESULT", h.told(1), "");
+        h.feed(many("8", MOST));
+        h.due("end(6001)", x.end(MOST + 1), false);
+        h.due("end(6000)", x.end(MOST), true);
+        h.due("bytes of the tape", x.count(5), MOST);
     }
 
     private void input() {
@@ -92,6 +133,15 @@ final class PromisesTest {
         h.input("a\rb\r\n\n\rc");
         h.due("(list (read-line) (read-line) (read-line) (read-line) (read-line) (read-line))", 0,
             "(\"a\" \"b\" \"\" \"\" \"c\" #<eof>)");
+        h.input(many("x", MOST));
+        h.due("bytes left", h.get().count(6), MOST);
+        h.due("(string-length (read-string 7000))", 0, "6000");
+        h.due("bytes left", h.get().count(6), 0);
+        h.input("old text");
+        h.due("(read)", 0, "old");
+        h.input("new");
+        h.due("bytes left", h.get().count(6), 3);
+        h.due("(read)", 0, "new");
         h.input("anew");
         h.due("input() of an empty tape", h.get().input(), 0);
         h.due("(read)", 0, "#<eof>");
@@ -144,6 +194,19 @@ final class PromisesTest {
         h.due("sum(1)", x.sum(1), "abcdefghij".hashCode());
         h.due("sum(2)", x.sum(2), -1);
         h.due("sum(-1)", x.sum(-1), -1);
+        h.due("sum(greatest)", x.sum(Integer.MAX_VALUE), -1);
+        h.due("sum(least)", x.sum(Integer.MIN_VALUE), -1);
+        // a wrap-around, and none of none
+        h.due("(write-string (make-string 3000 #\\~)) 'a", 0, "a");
+        h.due("sum(0) of 3000 bytes", x.sum(0), many("~", 3000).hashCode());
+        h.due("sum(1) of one byte", x.sum(1), 'a');
+        h.due("", 0, "");
+        h.due("sum(0) of none", x.sum(0), 0);
+        h.due("sum(1) of none", x.sum(1), 0);
+        h.due("(write-char (integer->char 0)) (write-char (integer->char 127))", 0, "#<unspecified>");
+        h.due("sum(0)", x.sum(0), 127);
+        h.due("told(0, 0)", x.told(0, 0), 0);
+        h.due("told(0, 1)", x.told(0, 1), 127);
     }
 
     private void count() {
@@ -163,6 +226,8 @@ final class PromisesTest {
         h.due("bytes of the tape", x.count(5), 6);
         h.due("count(9)", x.count(9), -1);
         h.due("count(-1)", x.count(-1), -1);
+        h.due("count(greatest)", x.count(Integer.MAX_VALUE), -1);
+        h.due("count(least)", x.count(Integer.MIN_VALUE), -1);
     }
 
     private void full() {
