@@ -15,6 +15,7 @@ final class EdgesOfNumbersTest {
         test.greatestAndLeast();
         test.integersAndFlonums();
         test.divisions();
+        test.signsOfBefore();
         test.rounded();
         test.partsOfFlonums();
         test.roots();
@@ -240,6 +241,25 @@ final class EdgesOfNumbersTest {
         due("(call-with-values (lambda () (truncate/ -7 2)) list)", "(-3 -1)");
         due("(call-with-values (lambda () (floor/ -7 2.)) list)", "(-4.0 1.0)");
         due("(list (modulo -4 2) (modulo 4 -2) (floor-quotient -4 2) (modulo 0 5) (modulo 0. -5))", "(0 0 -2 0 0.0)");
+    }
+
+    /** What an operation ahead left behind has no part in the next one. */
+    private void signsOfBefore() {
+        fresh();
+        String[] before = {"(* -1 2)", "(+ 1 -2)", "(- -1/2 1/3)", "(quotient -7 2)", "(floor/ -7 2)", "(expt -2 3)", "(- -5.5 1)",
+            "(exact -1.5)", "(< -1/2 -1/3)", "(string->number \"-1/2\")", "(number->string -12)", "(round -7/2)", "(abs -5)",
+            "(numerator -0.5)", "(sqrt 1e-3)", "(max -1 -2.5)", "(/ -1 3)", "(lcm -4 6)", "(even? -3)", "(* -1.5 most)"};
+        String[] after = {"(gcd 4 6)", "(lcm 4 6)", "(sqrt 16)", "(sqrt 4/9)", "(expt 2 3)", "(expt 2/3 -2)", "(quotient 7 2)",
+            "(modulo 7 2)", "(+ 1 2)", "(* 1/2 3)", "(exact 1.5)", "(floor 7/2)", "(inexact 1/4)", "(string->number \"12\")",
+            "(number->string 12)", "(numerator .5)", "(- -5)", "(+ .5 1)", "(max 1 2.5)", "(abs 5)"};
+        String[] answers = {"2", "12", "4", "2/3", "8", "9/4", "3", "1", "3", "3/2", "3/2", "3", "0.25", "12", "\"12\"", "1.0", "5",
+            "1.5", "2.5", "5"};
+        for (String first : before) {
+            for (int i = 0; i < after.length; i++) due("(begin " + first + " " + after[i] + ")", answers[i]);
+            due("(begin " + first + " (call-with-values (lambda () (exact-integer-sqrt 17)) list))", "(4 1)");
+            due("(begin " + first + " (call-with-values (lambda () (floor/ 7 2)) list))", "(3 1)");
+            fresh();
+        }
     }
 
     // "floor, ceiling, truncate, round (ties to even) of FLONUMS are FLONUMS"; "floor and its like of inf, nan are
