@@ -951,6 +951,7 @@ public final class SchemeHouse {
             copy(x, a);
             copy(y, b);
             for (int n = 0; n < LIMBS * BITS * 2 && sizes[y & 15] != 0; n++) {
+                if (leap(x, y)) continue;
                 divide(10, rest, x, y);
                 int free = x;
                 x = y;
@@ -958,6 +959,76 @@ public final class SchemeHouse {
                 rest = free;
             }
             copy(to, x);
+        }
+
+        /**
+         * Some of Euclid's steps at once: they are reckoned with the highest 60 bits alone, as long as what is below them
+         * can't change a quotient. False if there is none: a whole division of big registers is dear.
+         */
+        private boolean leap(int x, int y) {
+            if (bits(y) > bits(x)) return false;
+            int cut = Math.max(0, bits(x) - 60);
+            long u = highest(x, cut);
+            long v = highest(y, cut);
+            long a = 1;
+            long b = 0;
+            long c = 0;
+            long d = 1;
+            for (int n = 0; n < 64 && v + c > 0 && v + d > 0; n++) {
+                long quotient = (u + a) / (v + c);
+                if (quotient >= BASE || quotient != (u + b) / (v + d)) break;
+                long nextC = a - quotient * c;
+                long nextD = b - quotient * d;
+                if (Math.abs(nextC) >= BASE || Math.abs(nextD) >= BASE) break;
+                long rest = u - quotient * v;
+                u = v;
+                v = rest;
+                a = c;
+                b = d;
+                c = nextC;
+                d = nextD;
+            }
+            if (b == 0) return false;
+            combine(x, y, a, b, c, d);
+            return true;
+        }
+
+        /** 60 bits of a register, from the one at cut on. */
+        private long highest(int a, int cut) {
+            int[] x = limbs[a & 15];
+            int n = sizes[a & 15];
+            int i = cut / BITS;
+            int shift = cut % BITS;
+            long low = i < n ? x[i & INDEX] : 0;
+            long middle = i + 1 < n ? x[(i + 1) & INDEX] : 0;
+            long high = i + 2 < n ? x[(i + 2) & INDEX] : 0;
+            return low >> shift | middle << (BITS - shift) | high << (2 * BITS - shift);
+        }
+
+        /** x becomes a times x and b times y, y becomes c times x and d times y; neither is below 0 or more than x was. */
+        private void combine(int x, int y, long a, long b, long c, long d) {
+            int[] s = limbs[x & 15];
+            int[] t = limbs[y & 15];
+            int n = sizes[x & 15];
+            for (int i = sizes[y & 15]; i < n; i++) t[i & INDEX] = 0;
+            long sumX = 0;
+            long sumY = 0;
+            for (int i = 0; i < n; i++) {
+                long p = s[i & INDEX];
+                long q = t[i & INDEX];
+                sumX += a * p + b * q;
+                sumY += c * p + d * q;
+                s[i & INDEX] = (int) (sumX & LOW);
+                t[i & INDEX] = (int) (sumY & LOW);
+                sumX >>= BITS;
+                sumY >>= BITS;
+            }
+            int sizeX = n;
+            while (sizeX > 0 && s[(sizeX - 1) & INDEX] == 0) sizeX--;
+            sizes[x & 15] = sizeX;
+            int sizeY = n;
+            while (sizeY > 0 && t[(sizeY - 1) & INDEX] == 0) sizeY--;
+            sizes[y & 15] = sizeY;
         }
 
         /** The greatest number whose square is not more. */
